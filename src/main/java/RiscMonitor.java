@@ -403,7 +403,7 @@ public final class RiscMonitor {
         }
         int was = c.journal.on ? 1 : 0;
         if (on) {
-            c.journal.begin(c.body);
+            c.journal.beginRecord(c.body);
         } else {
             c.journal.on = false;
         }
@@ -576,24 +576,37 @@ public final class RiscMonitor {
 
     public long trace(int m, int i, int what) {
         Computer c = seated(m);
-        return c == null ? NO_SUCH : c.diary.tell(i, what);
+        return c == null ? NO_SUCH : c.journal.tellTrace(i, what);
     }
 
     public int count(int what) {
+        switch (what) {
+            case 0:
+            case 3:
+            case 4: return countComputers(what);
+            case 1: return countPictures();
+            case 2: return assembler.size;
+            default: return NONE;
+        }
+    }
+
+    private int countComputers(int what) {
         int n = 0;
-        for (int k = 0; k < MOST_COMPUTERS; k++) {
-            Computer c = seated(k);
+        for (int m = 0; m < MOST_COMPUTERS; m++) {
+            Computer c = seated(m);
             if (c != null && (what == 0 || what == 3 && c.source != null || what == 4 && c.journal.on)) {
                 n++;
             }
         }
+        return n;
+    }
+
+    private int countPictures() {
+        int n = 0;
         for (int s = 0; s < MOST_PICTURES; s++) {
-            n += what == 1 && kept[s] ? 1 : 0;
+            n += kept[s] ? 1 : 0;
         }
-        if (what < 0 || what > 4) {
-            return NONE;
-        }
-        return what == 2 ? assembler.size : n;
+        return n;
     }
 
     private Computer seated(int m) {
@@ -1068,7 +1081,7 @@ public final class RiscMonitor {
 
     /** Knows instructions by their bits, those of 16 bits too, and spells them. */
     private static final class Reader {
-        static final Op[] OPS = Op.values();
+        private static final Op[] OPS = Op.values();
 
         private final int[] first = new int[256];
         private final int[] behind = new int[256];
@@ -1264,7 +1277,7 @@ public final class RiscMonitor {
             }
         }
 
-        private void putOperand(char p, int word) {
+        private void putOperand(int p, int word) {
             switch (p) {
                 case ',': putText(", "); break;
                 case 'd': putRegister(word >>> 7); break;
@@ -1279,7 +1292,7 @@ public final class RiscMonitor {
                 case 'u': putNumber(word >>> 12); break;
                 case 'c': putNumber(word >>> 20); break;
                 case 'z': putNumber(word >>> 15 & 31); break;
-                default: put(p); break;
+                default: put((char) p); break;
             }
         }
 
@@ -1642,50 +1655,20 @@ public final class RiscMonitor {
         }
     }
 
-    /** What was ever done: counts that stay for ever, and the TRACE. */
-    private static final class Diary {
-        private static final int MOST_TRACED = 32;
-        private static final int FIELDS = 4;
-
-        long steps;
-        long instructions;
-        long traps;
-        private final long[] traced = new long[MOST_TRACED * FIELDS];
-        private int size;
-        private int next;
-
-        void begin() {
-            steps = 0;
-            instructions = 0;
-            traps = 0;
-            size = 0;
-            next = 0;
-        }
-
-        void noteTrace(int hart, long pc, long bits, int cause) {
-            int row = next * FIELDS;
-            traced[row] = hart;
-            traced[row + 1] = pc;
-            traced[row + 2] = bits;
-            traced[row + 3] = cause;
-            next = (next + 1) % MOST_TRACED;
-            size = Math.min(size + 1, MOST_TRACED);
-        }
-
-        long tell(int i, int what) {
-            if (i < 0 || i >= size || what < 0 || what >= FIELDS) {
-                return NONE;
-            }
-            int row = (next - 1 - i + MOST_TRACED) % MOST_TRACED;
-            return traced[row * FIELDS + what];
-        }
-    }
-
-    /** A record: the beginning, and the inputs with how many steps were done ahead of each. */
+    /** What was done: counts that stay for ever, the TRACE, and the record if there is one. */
     private static final class Journal {
         private static final int MOST_INPUTS = 200;
         private static final int MOST_RECORDED = 10000;
+        private static final int MOST_TRACED = 32;
+        private static final int TRACED_FIELDS = 4;
 
+        long stepsEver;
+        long instructions;
+        long traps;
+        private final long[] traced = new long[MOST_TRACED * TRACED_FIELDS];
+        private int tracedSize;
+        private int tracedNext;
+        /** The record: its beginning, its steps, and the inputs with how many steps were done ahead of each. */
         boolean on;
         Body start;
         int steps;
@@ -1695,7 +1678,34 @@ public final class RiscMonitor {
         final long[] numbers = new long[MOST_INPUTS];
         final int[] values = new int[MOST_INPUTS];
 
-        void begin(Body body) {
+        void begin() {
+            stepsEver = 0;
+            instructions = 0;
+            traps = 0;
+            tracedSize = 0;
+            tracedNext = 0;
+            on = false;
+        }
+
+        void noteTrace(int hart, long pc, long bits, int cause) {
+            int row = tracedNext * TRACED_FIELDS;
+            traced[row] = hart;
+            traced[row + 1] = pc;
+            traced[row + 2] = bits;
+            traced[row + 3] = cause;
+            tracedNext = (tracedNext + 1) % MOST_TRACED;
+            tracedSize = Math.min(tracedSize + 1, MOST_TRACED);
+        }
+
+        long tellTrace(int i, int what) {
+            if (i < 0 || i >= tracedSize || what < 0 || what >= TRACED_FIELDS) {
+                return NONE;
+            }
+            int row = (tracedNext - 1 - i + MOST_TRACED) % MOST_TRACED;
+            return traced[row * TRACED_FIELDS + what];
+        }
+
+        void beginRecord(Body body) {
             if (start == null) {
                 start = new Body();
             }
@@ -2023,6 +2033,9 @@ public final class RiscMonitor {
             0x7003c0, 0xb1ff, 0x444, 0, -1L, 7, 0, -1L, 0, 0x444, -1L, 0, 0,
             0xc0122, 0, ~2L, -1L, ~1L, -1L, -1L, 0, 0};
 
+        /** In which order interrupts that go to the same mode are taken. */
+        private static final int[] ORDER = {11, 3, 7, 9, 1, 5, 10, 2, 6};
+
         static final int MSTATUS = Body.CSR;
         static final int MEDELEG = Body.CSR + 2;
         static final int MIDELEG = Body.CSR + 3;
@@ -2091,7 +2104,6 @@ public final class RiscMonitor {
         private static final long VS_INTERRUPTS = 0x444;
         private static final long VS_SOFTWARE = 4;
         private static final long PMPADDR_BITS = (1L << 54) - 1;
-        private static final long SATP_PLACES = (1L << 44) - 1;
         private static final long HGATP_BITS = 0xf3fffffffffffffcL;
 
         private final Body body;
@@ -2299,8 +2311,6 @@ public final class RiscMonitor {
             boolean open = mode == MODE_U || (body.regs[row + VSSTATUS] & SIE_BIT) != 0;
             return toGuest != 0 && guest && open ? foremost(toGuest) : NONE;
         }
-
-        private static final int[] ORDER = {11, 3, 7, 9, 1, 5, 10, 2, 6};
 
         private static int foremost(long bits) {
             for (int i = 0; i < ORDER.length; i++) {
@@ -2537,7 +2547,7 @@ public final class RiscMonitor {
         private final Csrs csrs;
         private final Mmu mmu;
         private final Reader reader;
-        private final Diary diary;
+        private final Journal journal;
         private int hart;
         private int row;
         private long next;
@@ -2554,14 +2564,14 @@ public final class RiscMonitor {
         int storedAt;
         int stored;
 
-        Core(Body body, Book book, Devices devices, Csrs csrs, Mmu mmu, Reader reader, Diary diary) {
+        Core(Body body, Book book, Devices devices, Csrs csrs, Mmu mmu, Reader reader, Journal journal) {
             this.body = body;
             this.book = book;
             this.devices = devices;
             this.csrs = csrs;
             this.mmu = mmu;
             this.reader = reader;
-            this.diary = diary;
+            this.journal = journal;
         }
 
         /** One step; what is done again for a record is not told (counts, trace and book stay). */
@@ -2569,7 +2579,7 @@ public final class RiscMonitor {
             stored = 0;
             wrote = 0;
             devices.power = 0;
-            diary.steps += told ? 1 : 0;
+            journal.stepsEver += told ? 1 : 0;
             body.dev[Body.TIME]++;
             if (devices.dogBites()) {
                 devices.restart();
@@ -2577,7 +2587,6 @@ public final class RiscMonitor {
             }
             hart = (int) body.dev[Body.TURN];
             row = hart * Body.ROW;
-            cause = NONE;
             setTrap(NONE, 0, false);
             long ready = csrs.pending(hart) & body.regs[row + Csrs.MIE];
             int number = csrs.dueInterrupt(row, ready);
@@ -2585,7 +2594,7 @@ public final class RiscMonitor {
             if (number != NONE) {
                 body.regs[row + Body.WAITS] = 0;
                 trap(number, true);
-                diary.traps += told ? 1 : 0;
+                journal.traps += told ? 1 : 0;
             } else if (acts) {
                 body.regs[row + Body.WAITS] = 0;
                 Op op = fetch(told);
@@ -2814,7 +2823,8 @@ public final class RiscMonitor {
                     body.regs[row + Body.HELD_SIZE] = mmu.size;
                     break;
                 case ACT_SC:
-                    boolean holds = body.regs[row + Body.HELD] == mmu.place && body.regs[row + Body.HELD_SIZE] == mmu.size;
+                    long held = body.regs[row + Body.HELD];
+                    boolean holds = held == mmu.place && body.regs[row + Body.HELD_SIZE] == mmu.size;
                     if (holds) {
                         storeFound(x(20));
                     }
@@ -2856,9 +2866,9 @@ public final class RiscMonitor {
         /** Behind an instruction: it is done, or trapped. */
         private void settle(boolean told) {
             if (told) {
-                diary.noteTrace(hart, body.regs[row + Body.PC], bits & LOW_WORD, cause);
-                diary.traps += cause == NONE ? 0 : 1;
-                diary.instructions += cause == NONE ? 1 : 0;
+                journal.noteTrace(hart, body.regs[row + Body.PC], bits & LOW_WORD, cause);
+                journal.traps += cause == NONE ? 0 : 1;
+                journal.instructions += cause == NONE ? 1 : 0;
             }
             if (cause == NONE) {
                 body.regs[row + Body.PC] = next;
@@ -2995,7 +3005,6 @@ public final class RiscMonitor {
         static final int MARK_STORE = 1;
 
         final Body body = new Body();
-        final Diary diary = new Diary();
         final Journal journal = new Journal();
         final Book book;
         final Devices devices;
@@ -3020,14 +3029,13 @@ public final class RiscMonitor {
             devices = new Devices(body, book);
             csrs = new Csrs(body, devices);
             mmu = new Mmu(body, devices);
-            core = new Core(body, book, devices, csrs, mmu, reader, diary);
+            core = new Core(body, book, devices, csrs, mmu, reader, journal);
         }
 
         void begin(int harts, int pages) {
             body.begin(harts, pages);
             book.begin();
-            diary.begin();
-            journal.on = false;
+            journal.begin();
             here = true;
             release();
             Arrays.fill(markKind, NONE);
@@ -3060,9 +3068,9 @@ public final class RiscMonitor {
                 case 2: return body.harts;
                 case 3: return body.pages;
                 case 4: return body.dev[Body.TURN];
-                case 5: return diary.steps;
-                case 6: return diary.instructions;
-                case 7: return diary.traps;
+                case 5: return journal.stepsEver;
+                case 6: return journal.instructions;
+                case 7: return journal.traps;
                 case 8: return stop;
                 default: return NONE;
             }
@@ -3196,8 +3204,8 @@ public final class RiscMonitor {
         private static final int MOST_ZEROS = 4096;
         private static final int MOST_ALIGNED = 12;
         private static final int LINE_END = 10;
-        private static final String REGISTERS = "zero ra sp gp tp t0 t1 t2 s0 s1 a0 a1 a2 a3 a4 a5 a6 a7 "
-                + "s2 s3 s4 s5 s6 s7 s8 s9 s10 s11 t3 t4 t5 t6 ";
+        private static final String REGISTERS =
+                "zero ra sp gp tp t0 t1 t2 s0 s1 a0 a1 a2 a3 a4 a5 a6 a7 s2 s3 s4 s5 s6 s7 s8 s9 s10 s11 t3 t4 t5 t6 ";
 
         int size;
         private final byte[] tape = new byte[MOST_SIGNS];
@@ -3248,11 +3256,11 @@ public final class RiscMonitor {
 
         private void readAll(long start) {
             place = start;
-            for (at = 0; at <= size; at++) {
+            at = 0;
+            for (int line = 0; line <= MOST_SIGNS && at <= size; line++) {
                 fault = NONE;
                 length = 0;
-                boolean more = readLabels();
-                if (more && fault == NONE) {
+                if (readLabels()) {
                     readStatement();
                 }
                 if (fault == NONE) {
@@ -3263,6 +3271,7 @@ public final class RiscMonitor {
                 while (at < size && tape[at] != LINE_END) {
                     at++;
                 }
+                at++;
             }
             fault = NONE;
         }
@@ -3270,7 +3279,10 @@ public final class RiscMonitor {
         /** Whether a word that is no label's was read. */
         private boolean readLabels() {
             boolean more = nextWord();
-            while (more && isName() && takes(':')) {
+            for (int n = 0; n <= MOST_SIGNS && more; n++) {
+                if (!isName() || !takes(':')) {
+                    return true;
+                }
                 int k = labelAt();
                 if (k == NONE && !asks && labels < MOST_LABELS) {
                     labelFrom[labels] = from;
@@ -3402,7 +3414,7 @@ public final class RiscMonitor {
         }
 
         /** One part of a pattern; the word becomes what it has of it. */
-        private boolean readOperand(char part) {
+        private boolean readOperand(int part) {
             switch (part) {
                 case ',':
                 case '(':
@@ -3432,7 +3444,7 @@ public final class RiscMonitor {
             return true;
         }
 
-        private static boolean isInRange(char part, long n) {
+        private static boolean isInRange(int part, long n) {
             switch (part) {
                 case 'i':
                 case 'k': return n >= -2048 && n <= 2047;
