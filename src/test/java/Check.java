@@ -1,5 +1,7 @@
-/** What the tests share: answers are compared, faults are told and counted, tapes are filled. */
+/** What the tests share: answers are compared, wrong ones are told and counted, tapes are filled. */
 final class Check {
+    static final long RAM = 0x80000000L;
+
     private int wrong;
     private int done;
     private String topic = "";
@@ -13,6 +15,14 @@ final class Check {
         if (got != want) {
             wrong++;
             System.out.println(topic + ": " + call + " answered " + got + ", due is " + want);
+        }
+    }
+
+    void due(String call, String got, String want) {
+        done++;
+        if (!got.equals(want)) {
+            wrong++;
+            System.out.println(topic + ": " + call + " answered '" + got + "', due is '" + want + "'");
         }
     }
 
@@ -46,18 +56,49 @@ final class Check {
         }
     }
 
-    /** Assembles a text to a place; what assemble() answers. */
-    static int make(RiscMonitor x, int m, long at, String text) {
-        type(x, text);
+    /** Assembles lines to a place; what assemble() answers. */
+    static int make(RiscMonitor x, int m, long at, String... lines) {
+        type(x, String.join("\n", lines));
         return x.assemble(m, at);
+    }
+
+    /** A new house whose computer 0 has a program at RAM's beginning. */
+    static RiscMonitor house(int harts, int pages, String... lines) {
+        RiscMonitor x = new RiscMonitor();
+        x.computer(harts, pages);
+        int made = make(x, 0, RAM, lines);
+        if (made < 0) {
+            throw new IllegalStateException("the test's program has a fault at " + (-1 - made));
+        }
+        return x;
+    }
+
+    /** A new house of one hart and four pages that has run a program for so many steps. */
+    static RiscMonitor ran(int steps, String... lines) {
+        RiscMonitor x = house(1, 4, lines);
+        x.run(0, steps);
+        return x;
     }
 
     /** What is listed of the instruction at a place. */
     static String listed(RiscMonitor x, int m, long at) {
         StringBuilder text = new StringBuilder();
-        for (int i = 0; x.list(m, at, i) >= 0 && i < 100; i++) {
-            text.append((char) x.list(m, at, i));
+        for (int i = 0; i < 100; i++) {
+            int sign = x.list(m, at, i);
+            if (sign < 0) {
+                break;
+            }
+            text.append((char) sign);
         }
         return text.toString();
+    }
+
+    /** Eight bytes of RAM, the lowest first. */
+    static long dword(RiscMonitor x, int m, long at) {
+        long sum = 0;
+        for (int i = 7; i >= 0; i--) {
+            sum = sum << 8 | x.cell(m, at + i);
+        }
+        return sum;
     }
 }
