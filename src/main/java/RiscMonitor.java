@@ -132,7 +132,10 @@ public final class RiscMonitor {
         if (from == NONE) {
             return OUTSIDE;
         }
-        int answer = assembler.build(c.body, at);
+        assembler.read(c.body, at, Assembler.FOR_PLACES);
+        assembler.read(c.body, at, Assembler.FOR_FAULTS);
+        assembler.read(c.body, at, Assembler.FOR_BYTES);
+        int answer = assembler.answer(at);
         if (answer >= 0) {
             c.book.touch(from, answer, NONE);
             c.journal.on = false;
@@ -415,7 +418,8 @@ public final class RiscMonitor {
         if (c == null) {
             return NO_SUCH;
         }
-        if (!c.journal.on) {
+        Body start = c.journal.start;
+        if (!c.journal.on || start == null) {
             return NOT_SO;
         }
         if (n < 0 || n > c.journal.steps) {
@@ -426,7 +430,7 @@ public final class RiscMonitor {
         c.release();
         if (n > 0) {
             int goal = c.journal.steps - n;
-            c.body.copyAll(c.journal.start);
+            c.body.copyAll(start);
             int next = 0;
             for (int done = 0; done < goal; done++) {
                 next = c.feed(c.journal, next, done);
@@ -442,13 +446,14 @@ public final class RiscMonitor {
         if (c == null) {
             return NO_SUCH;
         }
-        if (!c.journal.on) {
+        Body start = c.journal.start;
+        if (!c.journal.on || start == null) {
             return NOT_SO;
         }
         int p = newComputer(c.body.harts, c.body.pages);
         Computer again = seated(p);
         if (again != null) {
-            again.body.copyAll(c.journal.start);
+            again.body.copyAll(start);
             int next = 0;
             for (int done = 0; done < c.journal.steps; done++) {
                 next = again.feed(c.journal, next, done);
@@ -1145,54 +1150,58 @@ public final class RiscMonitor {
             int r = c >>> 7 & 31;
             int p = 8 + (c >>> 7 & 7);
             int i = (c >>> 2 & 31) - (c >>> 12 & 1) * 32;
+            int n = stackDistance(c);
             switch (c >>> 13 & 7) {
                 case 0: return immediate(0x13, 0, r, r, i);
                 case 1: return r == 0 ? 0 : immediate(0x1b, 0, r, r, i);
                 case 2: return immediate(0x13, 0, r, 0, i);
-                case 3: return r == 2 ? stackMove(c) : i == 0 ? 0 : i << 12 | r << 7 | 0x37;
-                case 4: return middleComputing(c, p, i);
-                case 5: return farJump(c);
-                case 6: return nearBranch(c, 0, p);
-                default: return nearBranch(c, 1, p);
+                case 3:
+                    if (r == 2) {
+                        return n == 0 ? 0 : immediate(0x13, 0, 2, 2, n);
+                    }
+                    return i == 0 ? 0 : i << 12 | r << 7 | 0x37;
+                case 4: return middleComputing(c, i);
+                case 5: return 0x6f | jumpField(farDistance(c));
+                case 6: return 0x63 | p << 15 | branchField(nearDistance(c));
+                default: return 0x1063 | p << 15 | branchField(nearDistance(c));
             }
         }
 
-        private static int stackMove(int c) {
+        private static int stackDistance(int c) {
             int n = (c >>> 6 & 1) << 4 | (c >>> 2 & 1) << 5 | (c >>> 5 & 1) << 6 | (c >>> 3 & 3) << 7;
-            n -= (c >>> 12 & 1) << 9;
-            return n == 0 ? 0 : immediate(0x13, 0, 2, 2, n);
+            return n - ((c >>> 12 & 1) << 9);
         }
 
-        private static int middleComputing(int c, int p, int i) {
-            int q = 8 + (c >>> 2 & 7);
+        private static int middleComputing(int c, int i) {
+            int p = 8 + (c >>> 7 & 7);
+            int pair = p << 7 | p << 15;
+            int q = 8 + (c >>> 2 & 7) << 20;
             switch (c >>> 10 & 3) {
-                case 0: return immediate(0x13, 5, p, p, i & 63);
-                case 1: return immediate(0x13, 5, p, p, 0x400 | i & 63);
-                case 2: return immediate(0x13, 7, p, p, i);
+                case 0: return 0x00005013 | pair | (i & 63) << 20;
+                case 1: return 0x40005013 | pair | (i & 63) << 20;
+                case 2: return 0x00007013 | pair | i << 20;
                 default: break;
             }
             switch ((c >>> 12 & 1) << 2 | c >>> 5 & 3) {
-                case 0: return computing(0x40000033, p, p, q);
-                case 1: return computing(0x00004033, p, p, q);
-                case 2: return computing(0x00006033, p, p, q);
-                case 3: return computing(0x00007033, p, p, q);
-                case 4: return computing(0x4000003b, p, p, q);
-                case 5: return computing(0x0000003b, p, p, q);
+                case 0: return 0x40000033 | pair | q;
+                case 1: return 0x00004033 | pair | q;
+                case 2: return 0x00006033 | pair | q;
+                case 3: return 0x00007033 | pair | q;
+                case 4: return 0x4000003b | pair | q;
+                case 5: return 0x0000003b | pair | q;
                 default: return 0;
             }
         }
 
-        private static int farJump(int c) {
+        private static int farDistance(int c) {
             int n = (c >>> 3 & 7) << 1 | (c >>> 11 & 1) << 4 | (c >>> 2 & 1) << 5 | (c >>> 7 & 1) << 6;
             n |= (c >>> 6 & 1) << 7 | (c >>> 9 & 3) << 8 | (c >>> 8 & 1) << 10;
-            n -= (c >>> 12 & 1) << 11;
-            return 0x6f | jumpField(n);
+            return n - ((c >>> 12 & 1) << 11);
         }
 
-        private static int nearBranch(int c, int f3, int p) {
+        private static int nearDistance(int c) {
             int n = (c >>> 3 & 3) << 1 | (c >>> 10 & 3) << 3 | (c >>> 2 & 1) << 5 | (c >>> 5 & 3) << 6;
-            n -= (c >>> 12 & 1) << 8;
-            return 0x63 | f3 << 12 | p << 15 | branchField(n);
+            return n - ((c >>> 12 & 1) << 8);
         }
 
         private static int thirdQuarter(int c) {
@@ -1206,7 +1215,7 @@ public final class RiscMonitor {
                 case 3: return r == 0 ? 0 : immediate(0x03, 3, r, 2, t & 24 | top | (t & 7) << 6);
                 case 4:
                     if (t != 0) {
-                        return computing(0x33, r, high ? r : 0, t);
+                        return 0x33 | r << 7 | (high ? r : 0) << 15 | t << 20;
                     }
                     return r != 0 ? immediate(0x67, 0, high ? 1 : 0, r, 0) : high ? 0x00100073 : 0;
                 case 6: return storing(2, t, 2, (c >>> 9 & 15) << 2 | (c >>> 7 & 3) << 6);
@@ -1221,10 +1230,6 @@ public final class RiscMonitor {
 
         private static int storing(int f3, int rs2, int rs1, int n) {
             return 0x23 | f3 << 12 | rs1 << 15 | rs2 << 20 | storeField(n);
-        }
-
-        private static int computing(int match, int rd, int rs1, int rs2) {
-            return match | rd << 7 | rs1 << 15 | rs2 << 20;
         }
 
         static int storeField(int n) {
@@ -2196,15 +2201,12 @@ public final class RiscMonitor {
             return slot == NONE ? 0 : regs[row + slot];
         }
 
-        /** Sets and clears go from what a register has; of mip from what was written to it alone. */
-        void alter(int h, int number, int how, long operand) {
+        /** How: 1 writes, 2 sets, 3 clears, from what was read; of mip from what was written to it alone. */
+        void write(int h, int number, int how, long operand, long was) {
             int row = h * Body.ROW;
-            long was = number == 0x344 ? body.regs[row + MIP] | body.regs[row + HVIP] : read(h, number, false);
-            write(row, number, how == 1 ? operand : how == 2 ? was | operand : was & ~operand);
-        }
-
-        private void write(int row, int number, long value) {
             long[] regs = body.regs;
+            long base = number == 0x344 ? regs[row + MIP] | regs[row + HVIP] : was;
+            long value = how == 1 ? operand : how == 2 ? base | operand : base & ~operand;
             switch (number) {
                 case 0x300: writeStatus(row, value); return;
                 case 0x344:
@@ -2783,7 +2785,7 @@ public final class RiscMonitor {
             long operand = (word >>> 14 & 1) != 0 ? field : x(15);
             long was = csrs.read(hart, meant, isGuest());
             if (writes) {
-                csrs.alter(hart, meant, how, operand);
+                csrs.write(hart, meant, how, operand, was);
                 wrote = meant == 0xb00 ? WROTE_CYCLES : meant == 0xb02 ? WROTE_RETIRED : 0;
             }
             setRd(was);
@@ -2810,34 +2812,40 @@ public final class RiscMonitor {
             }
         }
 
+        /** The access to the place that was found: what is loaded, then what is stored. */
         private void transfer(Op op) {
             if (cause != NONE) {
                 return;
             }
+            boolean stores = op.act == ACT_STORE || op.act == ACT_HSV || op.act == ACT_AMO;
+            long number = x(20);
             switch (op.act) {
                 case ACT_STORE:
-                case ACT_HSV: storeFound(x(20)); break;
+                case ACT_HSV: break;
                 case ACT_LR:
                     setRd(loadFound(true));
                     body.regs[row + Body.HELD] = mmu.place;
                     body.regs[row + Body.HELD_SIZE] = mmu.size;
                     break;
                 case ACT_SC:
-                    long held = body.regs[row + Body.HELD];
-                    boolean holds = held == mmu.place && body.regs[row + Body.HELD_SIZE] == mmu.size;
-                    if (holds) {
-                        storeFound(x(20));
-                    }
+                    stores = body.regs[row + Body.HELD] == mmu.place && body.regs[row + Body.HELD_SIZE] == mmu.size;
                     letGo();
-                    setRd(holds ? 0 : 1);
+                    setRd(stores ? 0 : 1);
                     break;
                 case ACT_AMO:
                     long was = loadFound(true);
-                    long b = mmu.size == 4 ? (int) x(20) : x(20);
-                    storeFound(Alu.mixed(op.sub, was, b));
+                    number = Alu.mixed(op.sub, was, mmu.size == 4 ? (int) number : number);
                     setRd(was);
                     break;
                 default: setRd(loadFound((op.sub & 4) == 0)); break;
+            }
+            if (stores && mmu.offset == NONE) {
+                devices.store(mmu.device, number);
+            } else if (stores) {
+                storedAt = mmu.offset;
+                stored = mmu.size;
+                body.store(storedAt, stored, number);
+                book.touch(storedAt, stored, hart);
             }
         }
 
@@ -2845,17 +2853,6 @@ public final class RiscMonitor {
             long found = mmu.offset != NONE ? body.load(mmu.offset, mmu.size) : devices.load(mmu.device);
             int shift = 64 - mmu.size * 8;
             return signed ? found << shift >> shift : found << shift >>> shift;
-        }
-
-        private void storeFound(long number) {
-            if (mmu.offset == NONE) {
-                devices.store(mmu.device, number);
-                return;
-            }
-            body.store(mmu.offset, mmu.size, number);
-            book.touch(mmu.offset, mmu.size, hart);
-            storedAt = mmu.offset;
-            stored = mmu.size;
         }
 
         private void letGo() {
@@ -3204,6 +3201,9 @@ public final class RiscMonitor {
         private static final int MOST_ZEROS = 4096;
         private static final int MOST_ALIGNED = 12;
         private static final int LINE_END = 10;
+        static final int FOR_PLACES = 0;
+        static final int FOR_FAULTS = 1;
+        static final int FOR_BYTES = 2;
         private static final String REGISTERS =
                 "zero ra sp gp tp t0 t1 t2 s0 s1 a0 a1 a2 a3 a4 a5 a6 a7 s2 s3 s4 s5 s6 s7 s8 s9 s10 s11 t3 t4 t5 t6 ";
 
@@ -3236,44 +3236,35 @@ public final class RiscMonitor {
             }
         }
 
-        /** How many bytes were made, or -1 minus the place of the first fault. */
-        int build(Body body, long start) {
+        /** Reads the tape once more; bytes go to a computer when there was no fault. */
+        void read(Body body, long start, int purpose) {
+            asks = purpose != FOR_PLACES;
+            labels = asks ? labels : 0;
+            target = purpose == FOR_BYTES ? body : null;
             limit = RAM_START + body.pages * (long) PAGE;
-            labels = 0;
-            target = null;
-            asks = false;
-            readAll(start);
-            asks = true;
-            readAll(start);
-            if (fault == NONE) {
-                target = body;
-                readAll(start);
-                target = null;
-            }
-            size = 0;
-            return fault != NONE ? -1 - fault : (int) (place - start);
-        }
-
-        private void readAll(long start) {
             place = start;
-            at = 0;
+            at = purpose == FOR_BYTES && fault != NONE ? size + 1 : 0;
             for (int line = 0; line <= MOST_SIGNS && at <= size; line++) {
                 fault = NONE;
                 length = 0;
                 if (readLabels()) {
                     readStatement();
                 }
-                if (fault == NONE) {
-                    place += length;
-                } else if (asks) {
+                if (fault != NONE && asks) {
                     return;
                 }
+                place += fault == NONE ? length : 0;
                 while (at < size && tape[at] != LINE_END) {
                     at++;
                 }
                 at++;
             }
-            fault = NONE;
+        }
+
+        /** How many bytes were made, or -1 minus the place of the first fault; the tape is empty then. */
+        int answer(long start) {
+            size = 0;
+            return fault != NONE ? -1 - fault : (int) (place - start);
         }
 
         /** Whether a word that is no label's was read. */
