@@ -201,9 +201,8 @@ public final class MemoryTest {
         CHECK.due("a page that is not in RAM", x.walk(0, 0, 3 * 4096, LOAD), -15);
     }
 
-    /** hgatp at page 8 (four pages); guest's 0 .. 2^30 - 1 is RAM from its beginning on, by small pages. */
-    private static RiscMonitor guest(int mode, boolean paged, long status, long own) {
-        RiscMonitor x = machine(mode, true, 0x680, SV39 | (RAM >>> 12) + 8, 0x280, paged ? SV39 | 4 : 0, 0x300, status, 0x200, own);
+    /** The guest's addresses from 0 on are RAM from its beginning on; its page 3 is its own page 7. */
+    private static void guestTables(RiscMonitor x, long bits) {
         entry(x, RAM + 8 * 4096, leaf(RAM + 12 * 4096, V));
         entry(x, RAM + 12 * 4096, leaf(RAM + 13 * 4096, V));
         for (int page = 0; page < 16; page++) {
@@ -211,7 +210,13 @@ public final class MemoryTest {
         }
         entry(x, RAM + 4 * 4096, leaf(5 * 4096, V));
         entry(x, RAM + 5 * 4096, leaf(6 * 4096, V));
-        entry(x, RAM + 6 * 4096 + 8 * 3, leaf(7 * 4096, V | R | W | X | A | D));
+        entry(x, RAM + 6 * 4096 + 8 * 3, leaf(7 * 4096, bits));
+    }
+
+    /** hgatp at page 8 (four pages), vsatp, if it is paged, at the guest's page 4. */
+    private static RiscMonitor guest(int mode, boolean paged, long status, long own) {
+        RiscMonitor x = machine(mode, true, 0x680, SV39 | (RAM >>> 12) + 8, 0x280, paged ? SV39 | 4 : 0, 0x300, status, 0x200, own);
+        guestTables(x, V | R | W | X | A | D);
         return x;
     }
 
@@ -375,14 +380,7 @@ public final class MemoryTest {
     private static RiscMonitor host(String line, long hstatus, long bits, long word) {
         RiscMonitor x = Check.house(1, 16, "la s0,d\n" + set(0x680, 0) + set(0x280, 0) + set(0x600, 0) + "li a0,12288", line, "wfi", ".align 3",
                 "d: .dword 0x" + Long.toHexString(SV39 | (RAM >>> 12) + 8), ".dword 0x" + Long.toHexString(SV39 | 4), ".dword " + hstatus);
-        entry(x, RAM + 8 * 4096, leaf(RAM + 12 * 4096, V));
-        entry(x, RAM + 12 * 4096, leaf(RAM + 13 * 4096, V));
-        for (int page = 0; page < 16; page++) {
-            entry(x, RAM + 13 * 4096 + 8 * page, leaf(RAM + page * 4096, V | R | W | X | U | A | D));
-        }
-        entry(x, RAM + 4 * 4096, leaf(5 * 4096, V));
-        entry(x, RAM + 5 * 4096, leaf(6 * 4096, V));
-        entry(x, RAM + 6 * 4096 + 8 * 3, leaf(7 * 4096, bits));
+        guestTables(x, bits);
         entry(x, RAM + 7 * 4096, word);
         x.run(0, 14);
         return x;
