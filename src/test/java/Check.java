@@ -93,6 +93,30 @@ final class Check {
         return text.toString();
     }
 
+    /** What is seen of a house: counts, computers' states, harts, books and traces, and pages that differ from pictures. */
+    static String sight(RiscMonitor x) {
+        StringBuilder text = new StringBuilder();
+        for (int what = 0; what < 5; what++) {
+            text.append(x.count(what)).append(' ');
+        }
+        for (int m = 0; m < 4; m++) {
+            text.append("\n").append(m).append(':');
+            for (int what = 0; what < 9; what++) {
+                text.append(' ').append(x.state(m, what));
+            }
+            for (int h = 0; h < x.state(m, 2); h++) {
+                for (int what = 0; what < 5; what++) {
+                    text.append(' ').append(x.hart(m, h, what));
+                }
+            }
+            for (int what = 0; what < 4; what++) {
+                text.append(' ').append(x.block(m, what)).append(' ').append(x.trace(m, 0, what));
+            }
+            text.append(' ').append(x.changed(m, 0)).append(' ').append(x.serial(m, 0)).append(' ').append(x.sector(m, 0, 0));
+        }
+        return text.toString();
+    }
+
     /** Eight bytes of RAM, the lowest first. */
     static long dword(RiscMonitor x, int m, long at) {
         long sum = 0;

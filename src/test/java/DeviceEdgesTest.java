@@ -163,6 +163,23 @@ public final class DeviceEdgesTest {
         x.reset(0);
         x.run(0, 13);
         CHECK.due("behind a reset, too", x.register(0, 0, 10), 4);
+        severalInService();
+    }
+
+    private static void severalInService() {
+        RiscMonitor x = Check.house(1, 1, "la s0,0xc000000", "la s1,0xc002000", "la s2,0xc200000", "la s3,0xc001000", "li t0,1", "sw t0,16(s0)", "sw t0,20(s0)", "sw t0,24(s0)", "li t0,112", "sw t0,0(s1)",
+                "lw a0,4(s2)", "lw a1,4(s2)", "sw zero,0(s2)", "lw a2,0(s3)", "li t0,4", "sw t0,4(s2)", "lw a3,0(s3)", "lw a4,0(s3)", "wfi");
+        x.wire(0, 4, true);
+        x.wire(0, 5, true);
+        x.run(0, 21);
+        CHECK.due("one", x.register(0, 0, 10), 4);
+        CHECK.due("another", x.register(0, 0, 11), 5);
+        CHECK.due("both are in service", x.register(0, 0, 12), 0);
+        CHECK.due("one is no more", x.register(0, 0, 13), 16);
+        x.wire(0, 6, true);
+        x.wire(0, 5, true);
+        x.run(0, 1);
+        CHECK.due("a third was never; the other is still", x.register(0, 0, 14), 80);
     }
 
     /** A source enabled for one context alone, of four harts. */

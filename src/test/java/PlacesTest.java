@@ -93,6 +93,10 @@ public final class PlacesTest {
             CHECK.due("store " + Long.toHexString(place), x.walk(0, 0, place, 2), there ? place : -17);
             CHECK.due("fetch " + Long.toHexString(place), x.walk(0, 0, place, 0), -11);
         }
+        for (long far : new long[] {1L << 32, 1L << 63, -1L << 32, 1L << 55}) {
+            CHECK.due("a place far away", x.walk(0, 0, 0x10000000L + far, 1), -15);
+            CHECK.due("a place far away, store", x.walk(0, 0, 0x10000005L + far, 2), -17);
+        }
         for (long register : registers(1)) {
             if (register % 16 != 1) {
                 CHECK.due("load " + Long.toHexString(register / 16), x.walk(0, 0, register / 16, 1), -15);

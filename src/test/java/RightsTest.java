@@ -79,6 +79,9 @@ public final class RightsTest {
             x.run(0, 1);
             CHECK.due(name + ": what it was", x.register(0, 0, 14), row[1] | row[2]);
             CHECK.due(name + ": 0 written", x.control(0, 0, (int) row[0]), row[2]);
+            for (int r = 15; r < 32; r++) {
+                CHECK.due(name + ": no other register is written, x" + r, x.register(0, 0, r), 0);
+            }
         }
     }
 
@@ -103,6 +106,10 @@ public final class RightsTest {
         x = Stage.ran(1, 3, false, "csrw 0x244,zero", 0x603, 0x440, 0x645, -1);
         CHECK.due("vsip without hideleg's bit 2", x.control(0, 0, 0x645), 0x444);
         CHECK.due("vsip", x.control(0, 0, 0x244), 0x220);
+        parts(0x104, 0x303, 0x222, 0);
+        parts(0x204, 0x603, 0x444, 1);
+        x = Stage.ran(2, 3, false, "li a0,2\ncsrw 0x244,a0", 0x603, 0x444);
+        CHECK.due("vsip's bit 1 is hvip's bit 2", x.control(0, 0, 0x645), 4);
         x = Stage.ran(2, 3, false, all + "0x604,a0", 0x304, 0x888);
         CHECK.due("hie: bits 2, 6, 10 of mie", x.control(0, 0, 0x304), 0xccc);
         x = Stage.ran(1, 3, false, "csrw 0x644,zero", 0x645, -1);
@@ -116,6 +123,22 @@ public final class RightsTest {
             CHECK.due("MPP " + mpp, x.control(0, 0, 0x300) >>> 11 & 3, mpp == 2 ? 1 : mpp);
         }
         paging();
+    }
+
+    /** A part of mie by its delegation: each bit alone, written and read. */
+    private static void parts(int number, int delegation, long all, int lower) {
+        for (int bit : new int[] {1, 5, 9}) {
+            long mine = 1L << bit;
+            RiscMonitor x = Stage.ran(2, 3, false, "li a0," + mine + "\ncsrw " + number + ",a0", delegation, all);
+            CHECK.due("bit " + bit + " of " + Integer.toHexString(number) + " is written to mie", x.control(0, 0, 0x304), mine << lower);
+            CHECK.due("it is read", x.control(0, 0, number), mine);
+            x = Stage.in(3, false, "nop", delegation, mine << lower, 0x304, -1);
+            CHECK.due("delegated alone", x.control(0, 0, number), mine);
+            x = Stage.in(3, false, "nop", delegation, all, 0x304, mine << lower);
+            CHECK.due("enabled alone", x.control(0, 0, number), mine);
+            x = Stage.ran(1, 3, false, "csrw " + number + ",zero", delegation, mine << lower, 0x304, -1);
+            CHECK.due("cleared alone", x.control(0, 0, 0x304), 0xeee & ~(mine << lower));
+        }
     }
 
     private static void paging() {

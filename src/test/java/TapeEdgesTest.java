@@ -9,6 +9,7 @@ public final class TapeEdgesTest {
     public static void main(String[] args) {
         signs();
         fullTape();
+        fullTapeEnds();
         eachWord();
         blanks();
         ranges();
@@ -84,6 +85,44 @@ public final class TapeEdgesTest {
         x.sign(0x6e6f70202020206eL);
         CHECK.due("the last four signs come", x.count(2), 4000);
         CHECK.due("the tape ends behind nop", x.assemble(0, RAM), 4);
+    }
+
+    /** What the last sign of a full tape belongs to; behind it there is nothing. */
+    private static void fullTapeEnds() {
+        CHECK.about("term 7: the tape's end");
+        String[] good = {"nop", "mv a0,s1", "mv a0,zero", "mv a0,x3", "li a0,0", "li a0,7", "a:", "#", ".byte 1", ".ascii \"\"", "lw a0,0(s0)", ".zero 0"};
+        for (String line : good) {
+            CHECK.due("'" + line + "' at the end", atEnd(line) >= 0 ? 1 : 0, 1);
+        }
+        String[] missing = {".ascii \"", ".ascii \"ab", ".ascii", "li a0,", "li", "mv a0,", "mv a0", "lw a0,0(s0", "lw a0,0(", "lw a0,0", ".byte 1,", ".zero", "add x1,x2"};
+        for (String line : missing) {
+            CHECK.due("'" + line + "' at the end", atEnd(line), -1 - 4000);
+        }
+        String[] wrong = {"0x", "-", "x", "s", "t", "?", ":", "\"", ",", "abc"};
+        for (String word : wrong) {
+            CHECK.due("'mv a0," + word + "' at the end", atEnd("mv a0," + word), -1 - 4000 + word.length());
+            CHECK.due("'li a0," + word + "' at the end", atEnd("li a0," + word), -1 - 4000 + word.length());
+        }
+        RiscMonitor x = new RiscMonitor();
+        x.computer(1, 1);
+        CHECK.due("an older tape", Check.make(x, 0, RAM, ".ascii \"abcdef\""), 6);
+        CHECK.due("is gone", Check.make(x, 0, RAM, ".ascii \"abcdef"), -1 - 14);
+        CHECK.due("an older tape", Check.make(x, 0, RAM, "mv a0,s11"), 4);
+        CHECK.due("is gone", Check.make(x, 0, RAM, "mv a0,s"), -1 - 6);
+        CHECK.due("an older tape", Check.make(x, 0, RAM, "li a0,0x1"), 4);
+        CHECK.due("is gone", Check.make(x, 0, RAM, "li a0,0"), 4);
+        CHECK.due("an older tape", Check.make(x, 0, RAM, "nop:"), 0);
+        CHECK.due("is gone", Check.make(x, 0, RAM, "nop"), 4);
+        CHECK.due("an older tape", Check.make(x, 0, RAM, ".byte 1,2"), 2);
+        CHECK.due("is gone", Check.make(x, 0, RAM, ".byte 1"), 1);
+    }
+
+    /** A line whose last sign is the tape's 4,000th. */
+    private static int atEnd(String line) {
+        RiscMonitor x = new RiscMonitor();
+        x.computer(1, 1);
+        Check.type(x, " ".repeat(4000 - line.length()) + line);
+        return x.assemble(0, RAM);
     }
 
     /** Good lines as words; blanks are put between them. */

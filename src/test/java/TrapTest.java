@@ -204,6 +204,12 @@ public final class TrapTest {
         RiscMonitor x = Stage.in(3, false, "csrrsi zero,0x300,10\nnop", 0x344, -1, 0x645, -1, 0x303, -1, 0x603, 4, 0x304, -1);
         x.run(0, 2);
         CHECK.due("S's and VS's never in M", x.hart(0, 0, 1), Stage.CODE + 8);
+        x = Stage.in(1, false, "ebreak", 0x302, 8, 0x304, 0x80);
+        x.run(0, 1);
+        CHECK.due("a trap of an instruction", x.state(0, 7), 1);
+        x.time(0, -2);
+        x.run(0, 1);
+        CHECK.due("and one of an interrupt", x.state(0, 7), 2);
         x = Stage.in(1, false, "nop\nnop", 0x304, 0x80);
         x.time(0, -3);
         x.run(0, 1);
