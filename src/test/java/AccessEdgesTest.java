@@ -25,6 +25,10 @@ public final class AccessEdgesTest {
         protectedSizes();
         modesOfAccess();
         highAddresses();
+        roots();
+        hartsOfTheirOwn();
+        behindHlvx();
+        secondOfS();
         CHECK.end();
     }
 
@@ -366,6 +370,90 @@ public final class AccessEdgesTest {
         x = Stage.in(0, false, "nop");
         for (long at : new long[] {-1, Long.MIN_VALUE, Long.MAX_VALUE, RAM | 1L << 63, RAM | 1L << 56}) {
             CHECK.due("physical " + Long.toHexString(at), x.walk(0, 0, at, 1), -15);
+        }
+    }
+
+    /** ASID and VMID don't matter; all 44 bits of PPN do. */
+    private static void roots() {
+        CHECK.about("term 4: ASID 44..59, PPN 0..43");
+        for (int bit = 24; bit < 60; bit++) {
+            Walker walker = new Walker();
+            walker.entries.put(TABLE, entry(RAM, 0xdf));
+            walker.entries.put(TABLE + 16, entry(RAM, 0xdf));
+            walker.entries.put(G_TABLE + 16, entry(RAM, 0xdf));
+            RiscMonitor x = Stage.in(0, false, "nop", 0x180, SV39 | TABLE >>> 12 | 1L << bit);
+            put(x, walker);
+            CHECK.due("satp, bit " + bit, x.walk(0, 0, 8, 1), bit < 44 ? -15 : RAM + 8);
+            x = Stage.in(0, true, "nop", 0x280, SV39 | TABLE >>> 12 | 1L << bit);
+            put(x, walker);
+            CHECK.due("vsatp, bit " + bit, x.walk(0, 0, 8, 1), bit < 44 ? -15 : RAM + 8);
+            x = Stage.in(0, true, "nop", 0x680, SV39 | G_TABLE >>> 12 | 1L << bit);
+            put(x, walker);
+            CHECK.due("hgatp, bit " + bit, x.walk(0, 0, RAM + 8, 1), bit < 44 ? -15 : RAM + 8);
+        }
+        for (int bit = 30; bit < 56; bit++) {
+            Walker walker = new Walker();
+            walker.entries.put(TABLE, entry(RAM ^ 1L << bit, 0xdf));
+            RiscMonitor x = Stage.in(0, false, "nop", 0x180, SV39 | TABLE >>> 12);
+            put(x, walker);
+            CHECK.due("a leaf's bit " + bit, x.walk(0, 0, 8, 1), -15);
+        }
+    }
+
+    /** Hart 1 goes to S with a table and a protection of its own; hart 0 stays in M. */
+    private static void hartsOfTheirOwn() {
+        CHECK.about("term 5: each hart by its own registers");
+        RiscMonitor x = Check.house(2, 16, "csrr t0,0xf14", "la s0,d", "bnez t0,b", "a: ld a0,0(s0)", "j a", "b: ld t1,0(s0)", "csrw 0x180,t1", "li t1,1", "slli t1,t1,11", "csrw 0x300,t1", "la t1,0x40000000", "addi t1,t1,96",
+                "csrw 0x341,t1", "mret", ".zero 32", "hlv.b a0,(zero)", "ld a1,8(t2)", "j 0x80000060", ".align 3", "d: .dword 0x" + Long.toHexString(SV39 | TABLE >>> 12));
+        Walker walker = new Walker();
+        walker.entries.put(TABLE + 8, entry(RAM, 0xcf));
+        put(x, walker);
+        x.run(0, 2 * 14);
+        CHECK.due("hart 1 in S", x.hart(0, 1, 0), 1);
+        CHECK.due("hart 0 in M", x.hart(0, 0, 0), 3);
+        CHECK.due("hart 1's place", x.walk(0, 1, 0x40000008L, 1), RAM + 8);
+        CHECK.due("hart 0's", x.walk(0, 0, 0x40000008L, 1), -15);
+        CHECK.due("hart 1: no table's entry", x.walk(0, 1, RAM + 8, 1), -23);
+        CHECK.due("hart 0: physical", x.walk(0, 0, RAM + 8, 1), RAM + 8);
+        long traps = x.state(0, 7);
+        x.run(0, 2);
+        CHECK.due("hart 0 goes on", x.hart(0, 0, 0), 3);
+        CHECK.due("hart 1 fetches by its own table: its hlv of 0", x.control(0, 1, 0x342), 5);
+        CHECK.due("where it was", x.control(0, 1, 0x341), 0x40000060L);
+        CHECK.due("traps of hart 1 alone", x.control(0, 0, 0x342), 0);
+        CHECK.due("there are some", x.state(0, 7) > traps ? 1 : 0, 1);
+    }
+
+    private static void behindHlvx() {
+        CHECK.about("term 5: hlvx: X, of its own access alone");
+        long readable = entry(RAM, 0x43);
+        RiscMonitor x = Stage.in(3, false, "la s1,0x80000000\nhlvx.hu a0,(s1)\nnop", 0x180, SV39 | TABLE >>> 12, 0x300, 1 << 17 | 1 << 11);
+        Walker walker = new Walker();
+        walker.entries.put(TABLE, readable);
+        put(x, walker);
+        CHECK.due("a page with R alone", x.walk(0, 0, 8, 1), RAM + 8);
+        x.run(0, 3);
+        CHECK.due("hlvx was done", x.hart(0, 0, 1), Stage.CODE + 12);
+        CHECK.due("a load behind it", x.walk(0, 0, 8, 1), RAM + 8);
+        CHECK.due("no fetch", x.walk(0, 0, 8, 0), -11);
+    }
+
+    private static void secondOfS() {
+        CHECK.about("term 4: htval");
+        for (long at : new long[] {0x1234560, 0x7ffffffff8L, 8}) {
+            RiscMonitor x = Stage.in(1, false, "la s1,q\nld s1,0(s1)\nhlv.d a0,(s1)\n.align 3\nq: .dword " + at, 0x680, SV39 | G_TABLE >>> 12, 0x302, -1);
+            x.run(0, 4);
+            CHECK.due("to S", x.hart(0, 0, 1), Stage.S_HANDLER);
+            CHECK.due("scause", x.control(0, 0, 0x142), 21);
+            CHECK.due("stval", x.control(0, 0, 0x143), at);
+            CHECK.due("htval", x.control(0, 0, 0x643), at >>> 2);
+            CHECK.due("hstatus' GVA, no SPV", x.control(0, 0, 0x600) & 0xc0, 0x40);
+            CHECK.due("mtval2", x.control(0, 0, 0x34b), 0);
+            x = Stage.in(1, false, "la s1,q\nld s1,0(s1)\nhsv.d a0,(s1)\n.align 3\nq: .dword " + at, 0x680, SV39 | G_TABLE >>> 12);
+            x.run(0, 4);
+            CHECK.due("mcause", Stage.cause(x), 23);
+            CHECK.due("mtval2", x.control(0, 0, 0x34b), at >>> 2);
+            CHECK.due("htval", x.control(0, 0, 0x643), 0);
         }
     }
 }

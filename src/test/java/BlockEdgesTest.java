@@ -17,6 +17,7 @@ public final class BlockEdgesTest {
         ownBlockGone();
         devicesDrop();
         pages();
+        resets();
         for (int seed = 0; seed < 60; seed++) {
             anyProgram(new Random(seed), seed);
         }
@@ -146,6 +147,8 @@ public final class BlockEdgesTest {
         CHECK.due("the 33rd: still 32", x.block(0, 0), 32);
         CHECK.due("one is DROPPED", x.block(0, 3), 1);
         CHECK.due("the oldest is gone", x.block(0, 4), RAM + 4);
+        CHECK.due("the length of the next one", x.block(0, 5), 5);
+        CHECK.due("and of the third", x.block(0, 9), 15);
         x.run(0, 3);
         CHECK.due("two more: hart 0's first one is gone", x.block(0, 4), RAM + 512);
         CHECK.due("hart 1 is in its block", x.hart(0, 1, 4), RAM + 512 + 4 * 11);
@@ -247,6 +250,33 @@ public final class BlockEdgesTest {
         CHECK.due("no more", x.block(0, 12), -1);
     }
 
+    private static void resets() {
+        CHECK.about("term 8: a RESET leaves the book as it is, all harts are in none");
+        String[] ends = {"", "la s0,0x100000\nli a0,0x7777\n", "la s0,0x10003000\nli a0,1\n"};
+        String[] stores = {"nop", "sw a0,0(s0)", "sd a0,0(s0)"};
+        for (int kind = 0; kind < 3; kind++) {
+            RiscMonitor x = Check.house(2, 1, "csrr t0,0xf14", "bnez t0,b", ends[kind] + "nop", stores[kind], "nop", "nop", "nop", "nop", "j 0x80000008", "b: nop\nnop\nnop\nnop\nnop\nnop\nnop\nnop\nnop\nnop\nnop\nnop");
+            int ahead = kind == 0 ? 2 : kind == 1 ? 5 : 4;
+            x.run(0, 2 * (2 + ahead));
+            CHECK.due("hart 0 is in a block", x.hart(0, 0, 4) > 0 ? 1 : 0, 1);
+            CHECK.due("hart 1 is in a block", x.hart(0, 1, 4) > 0 ? 1 : 0, 1);
+            long blocks = x.block(0, 0);
+            if (kind == 0) {
+                x.reset(0);
+            } else {
+                x.run(0, kind);
+            }
+            CHECK.due("kind " + kind + ": RESET", x.hart(0, 1, 1), RAM);
+            CHECK.due("hart 0 is in none", x.hart(0, 0, 4), -1);
+            CHECK.due("hart 1 is in none", x.hart(0, 1, 4), -1);
+            CHECK.due("the book stays", x.block(0, 0), blocks);
+            CHECK.due("none is DROPPED", x.block(0, 3), 0);
+            long hits = x.block(0, 1);
+            x.run(0, 1);
+            CHECK.due("a HIT then", x.block(0, 1), hits + 1);
+        }
+    }
+
     /** A book of the test's own: places and lengths in their order. */
     private static final class Book {
         final List<long[]> blocks = new ArrayList<>();
@@ -346,7 +376,7 @@ public final class BlockEdgesTest {
             text.append(i % 16 == 0 ? "\n.word " : ",").append(book.words[i] & 0xffffffffL);
         }
         RiscMonitor x = Check.house(2, 2, text.substring(1));
-        for (int step = 0; step < 60; step++) {
+        for (int step = 0; step < 44; step++) {
             int h = (int) x.state(0, 4);
             long pc = x.hart(0, h, 1);
             if (pc < RAM || pc >= RAM + 252) {

@@ -21,6 +21,7 @@ public final class ComputeTest {
         shiftsByNumbers();
         ofOne();
         branches();
+        atomics();
         CHECK.end();
     }
 
@@ -219,6 +220,38 @@ public final class ComputeTest {
         taken("bge", (a, b) -> a >= b ? 1 : 0);
         taken("bltu", (a, b) -> big(a, false).compareTo(big(b, false)) < 0 ? 1 : 0);
         taken("bgeu", (a, b) -> big(a, false).compareTo(big(b, false)) >= 0 ? 1 : 0);
+    }
+
+    private static void atomics() {
+        atomic("amoswap", (a, b) -> b);
+        atomic("amoadd", (a, b) -> a + b);
+        atomic("amoxor", (a, b) -> a ^ b);
+        atomic("amoand", (a, b) -> a & b);
+        atomic("amoor", (a, b) -> a | b);
+        atomic("amomin", (a, b) -> Math.min(a, b));
+        atomic("amomax", (a, b) -> Math.max(a, b));
+        atomic("amominu", (a, b) -> Long.compareUnsigned(a, b) < 0 ? a : b);
+        atomic("amomaxu", (a, b) -> Long.compareUnsigned(a, b) < 0 ? b : a);
+    }
+
+    /** Of 64 and of 32 bits: what was there comes to a2, what is there then to a3; 3 calls a pair. */
+    private static void atomic(String name, LongBinaryOperator want) {
+        for (int wide = 0; wide < 2; wide++) {
+            RiscMonitor x = Check.house(1, 2, "la s0,v", "la s3,w", "la s2,0x80001000", "b: ld a0,0(s0)", "la s1,v", "a: ld a1,0(s1)", "sd a0,0(s2)", name + (wide == 1 ? ".d" : ".w") + " a2,a1,(s2)", "ld a3,0(s2)",
+                    "addi s1,s1,8", "bne s1,s3,a", "addi s0,s0,8", "j b", ".align 3", "v: .dword " + row(), "w:");
+            x.run(0, 6);
+            for (long a : NUMBERS) {
+                x.run(0, 3);
+                for (long b : NUMBERS) {
+                    x.run(0, 6);
+                    long was = wide == 1 ? a : (int) a;
+                    long now = want.applyAsLong(was, wide == 1 ? b : (int) b);
+                    CHECK.due(name + " of " + a + ", " + b + ": rd", x.register(0, 0, 12), was);
+                    CHECK.due(name + " of " + a + ", " + b, x.register(0, 0, 13), wide == 1 ? now : a & -1L << 32 | now & 0xffffffffL);
+                }
+                x.run(0, 2);
+            }
+        }
     }
 
     /** Whether a branch is taken, of each two of the numbers: a2 is 1 if it is. */

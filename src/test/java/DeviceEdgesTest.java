@@ -215,6 +215,12 @@ public final class DeviceEdgesTest {
         x.run(0, 3);
         CHECK.due("a key, of 0 too", x.register(0, 0, 11), 2);
         CHECK.due("it stays pending", x.register(0, 0, 13), 2);
+        x = Check.house(1, 1, "la s0,0x10000000", "la s1,0xc000000", "la s2,0xc002000", "la s3,0xc200000", "la s4,0xc001000", "li t0,1", "sb t0,1(s0)", "sw t0,4(s1)", "li t0,2", "sw t0,0(s2)", "lw a0,4(s3)", "lw a1,0(s4)", "lw a2,4(s3)", "wfi");
+        x.key(0, 9);
+        x.run(0, 20);
+        CHECK.due("source 1 is claimed", x.register(0, 0, 10), 1);
+        CHECK.due("it is not pending any more", x.register(0, 0, 11), 0);
+        CHECK.due("nor claimed again", x.register(0, 0, 12), 0);
     }
 
     private static void deviceWires() {

@@ -1,12 +1,14 @@
 /** Promises 1 to 4, 9 and 39: the house, its tape and its computers. */
 public final class HouseTest {
     private static final Check CHECK = new Check();
+    private static final long RAM = Check.RAM;
 
     public static void main(String[] args) {
         newObject();
         tape();
         computers();
         drops();
+        usedSeats();
         states();
         counts();
         CHECK.end();
@@ -88,6 +90,39 @@ public final class HouseTest {
         x.computer(1, 1);
         CHECK.due("a new one's RAM is 0", x.cell(0, Check.RAM), 0);
         CHECK.due("it has no marks", x.mark(0, 0, 5), 0);
+    }
+
+    /** A seat that was used is as a new one. */
+    private static void usedSeats() {
+        CHECK.about("promise 3: a new computer in a seat that was used");
+        RiscMonitor x = Check.house(2, 2, "la s0,0x10000000", "sb s0,0(s0)", "sb s0,1(s0)", "la s1,0x10001000", "la s2,0x80001000", "sd s2,8(s1)", "sd s2,0(s2)", "li a0,2", "sw a0,16(s1)", "lr.d a1,(s2)", "la s3,0x10003000", "sd s2,0(s3)", "ecall");
+        x.key(0, 5);
+        x.wire(0, 4, true);
+        x.record(0, true);
+        x.mark(0, 0, RAM + 0x800);
+        x.run(0, 60);
+        CHECK.due("it has blocks, traps and a trace", x.block(0, 0) > 0 && x.state(0, 7) > 0 && x.trace(0, 31, 0) >= 0 ? 1 : 0, 1);
+        x.drop(0);
+        x.computer(2, 2);
+        x.computer(2, 2);
+        CHECK.due("alike", x.alike(0, 1), 1);
+        for (int what = 0; what < 9; what++) {
+            CHECK.due("state " + what, x.state(0, what), x.state(1, what));
+        }
+        for (int what = 0; what < 8; what++) {
+            CHECK.due("block " + what, x.block(0, what), x.block(1, what));
+        }
+        CHECK.due("no trace", x.trace(0, 0, 0), -1);
+        CHECK.due("no output", x.serial(0, 0), -1);
+        CHECK.due("sectors are 0", x.sector(0, 0, 0), 0);
+        CHECK.due("no mark", x.unmark(0, 0), -2);
+        CHECK.due("no record", x.back(0, 0), -5);
+        CHECK.due("a key", x.key(0, 1), 1);
+        CHECK.due("a wire", x.wire(0, 4, true), 0);
+        x.run(0, 3);
+        for (int i = 0; i < 4; i++) {
+            CHECK.due("its trace", x.trace(0, i, 0), i < 3 ? i % 2 : -1);
+        }
     }
 
     private static void states() {

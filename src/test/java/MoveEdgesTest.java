@@ -12,6 +12,7 @@ public final class MoveEdgesTest {
         lossesFromTheTelling();
         lossesInFinish();
         comesOver();
+        againBehindFinish();
         brokenOff();
         broken();
         notBroken();
@@ -45,14 +46,15 @@ public final class MoveEdgesTest {
     private static void roundsOfAll() {
         CHECK.about("promise 32: at most n pages, the least first");
         for (int n : new int[] {1, 2, 3, 5, 15, 16}) {
-            RiscMonitor x = house(16);
+            int pages = n == 1 ? 12 : 16;
+            RiscMonitor x = house(pages);
             CHECK.due("move", x.move(0), 1);
-            CHECK.due("none has come", come(x, 16), 0);
+            CHECK.due("none has come", come(x, pages), 0);
             int sent = 0;
-            for (int round = 0; round < 17 && sent < 16; round++) {
-                sent = Math.min(16, sent + n);
-                CHECK.due("round of " + n, x.round(1, n), 16 - sent);
-                CHECK.due("which have come", come(x, 16), (1L << sent) - 1);
+            for (int round = 0; round < 17 && sent < pages; round++) {
+                sent = Math.min(pages, sent + n);
+                CHECK.due("round of " + n, x.round(1, n), pages - sent);
+                CHECK.due("which have come", come(x, pages), (1L << sent) - 1);
             }
             CHECK.due("one more", x.round(1, n), 0);
             CHECK.due("finish", x.finish(1, true), 0);
@@ -232,6 +234,19 @@ public final class MoveEdgesTest {
         CHECK.due("it may be moved", x.move(1), 3);
         x.reset(0);
         CHECK.due("the old one may be reset", x.state(0, 0), 0);
+    }
+
+    private static void againBehindFinish() {
+        CHECK.about("term 11: behind a move that is FINISHED");
+        RiscMonitor x = house(2);
+        x.move(0);
+        x.finish(1, true);
+        CHECK.due("OFF", x.move(0), -5);
+        x.reset(0);
+        CHECK.due("the old one may be moved again", x.move(0), 2);
+        CHECK.due("the new one, too", x.move(1), 3);
+        CHECK.due("all are due", x.round(3, 1), 1);
+        CHECK.due("all are due", x.round(2, 1), 1);
     }
 
     private static void brokenOff() {

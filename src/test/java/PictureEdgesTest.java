@@ -126,7 +126,11 @@ public final class PictureEdgesTest {
         differ("a RESERVATION's size", 0, "bnez a0,b", "lr.w a1,(s1)", "j c", "b: lr.d a1,(s1)", "j c", "c: nop");
         differ("a RESERVATION's place", 0, "slli a0,a0,3", "add s1,s1,a0", "lr.d a1,(s1)", "la s1,0");
         differ("whether there is one", 0, "bnez a0,b", "lr.w a1,(s1)", "j c", "b: lw a1,(s1)".replace("(s1)", "0(s1)"), "j c", "c: nop");
+        differ("a RESERVATION that is gone by sc", 1, "slli a0,a0,3", "add s1,s1,a0", "lr.d a1,(s1)", "la s1,0x80001040", "sc.w a1,zero,(s1)");
+        differ("misa", 1, "csrw 0x301,a0");
+        differ("a control register that is read alone in its bits", 1, "csrw 0x607,a0");
         waits();
+        goneFromOutside();
         RiscMonitor x = pair("nop");
         for (int s = 4; s <= 7; s++) {
             x.wire(0, s, true);
@@ -157,6 +161,15 @@ public final class PictureEdgesTest {
         CHECK.due("the same place", x.hart(0, 0, 1), x.hart(1, 0, 1));
         CHECK.due("one waits", x.hart(0, 0, 2) - x.hart(1, 0, 2), 1);
         CHECK.due("who waits", x.alike(0, 1), 0);
+    }
+
+    private static void goneFromOutside() {
+        RiscMonitor x = pair("slli a0,a0,3", "add s1,s1,a0", "lr.d a1,(s1)", "la s1,0");
+        CHECK.due("RESERVATIONS of two places", x.alike(0, 1), 0);
+        x.poke(0, RAM + 4096, 0);
+        CHECK.due("one is gone", x.alike(0, 1), 0);
+        x.poke(1, RAM + 4096, 0);
+        CHECK.due("both are gone", x.alike(0, 1), 1);
     }
 
     private static void kinds() {

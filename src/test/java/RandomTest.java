@@ -3,7 +3,9 @@ import java.util.Random;
 /** Calls at random: none may throw but register() and control(), and replays must be alike. */
 public final class RandomTest {
     private static final Check CHECK = new Check();
-    private static final int ROUNDS = 400;
+    private static final int ROUNDS = 600;
+    /** Less than 512 by the calls at a round's end and those of one program. */
+    private static final int MOST_CALLS = 400;
     private static final String[] LINES = {"add a0,a1,a2", "ld a0,8(s0)", "sd a0,0(s0)", "sw a1,16(s1)", "sd a1,0(s1)", "lw a2,4(s1)", "lr.w a0,(s0)",
         "sc.w a1,a2,(s0)", "amoadd.d a3,a0,(s0)", "csrrw a0,0x300,a1", "csrrs a0,0x304,a2", "csrw 0x180,a3", "csrw 0x280,a3", "csrw 0x680,a3",
         "csrrsi a1,0x344,2", "csrw 0x600,a1", "ecall", "ebreak", "mret", "sret", "wfi", "fence.i", "sfence.vma x0,x0", "hlv.d a0,(s0)",
@@ -20,8 +22,8 @@ public final class RandomTest {
     private static void round(Random random) {
         RiscMonitor x = new RiscMonitor();
         x.computer(1 + random.nextInt(4), 1 + random.nextInt(16));
-        for (int call = 0; call < 300; call++) {
-            call(x, random, random.nextInt(5) - random.nextInt(2), place(random), random.nextInt(12) - 2);
+        for (int calls = 1; calls < MOST_CALLS;) {
+            calls += call(x, random, random.nextInt(5) - random.nextInt(2), place(random), random.nextInt(12) - 2);
         }
         for (int m = 0; m < 4; m++) {
             int again = x.replay(m);
@@ -44,7 +46,7 @@ public final class RandomTest {
         int[] devices = {0x100000, 0x2000000, 0x2004000, 0xc000000, 0xc200000, 0x10000000, 0x10001000, 0x10002000, 0x10003000, 0x10004000};
         StringBuilder text = new StringBuilder("la s0,0x80000800\ncsrw 0x305,s0\nli s1," + devices[random.nextInt(devices.length)] + "\n");
         text.append("li a1,").append(random.nextInt(8192)).append("\ncsrw 0x300,a1\nla a3,0x80000200\ncsrw 0x341,a3\n");
-        for (int i = 0; i < 60; i++) {
+        for (int i = 0; i < 30; i++) {
             text.append(LINES[random.nextInt(LINES.length)]).append('\n');
         }
         if (random.nextInt(8) == 0) {
@@ -53,12 +55,17 @@ public final class RandomTest {
         return text.toString();
     }
 
-    private static void call(RiscMonitor x, Random random, int m, long at, int n) {
+    /** One call, or a few: how many at most. */
+    private static int call(RiscMonitor x, Random random, int m, long at, int n) {
         switch (random.nextInt(36)) {
             case 0: x.computer(n, 1 + random.nextInt(17)); break;
             case 1: if (n == 0) { x.drop(m); } break;
             case 2:
-            case 3: Check.make(x, m, random.nextBoolean() ? Check.RAM : at, program(random)); break;
+            case 3: {
+                String text = program(random);
+                Check.make(x, m, random.nextBoolean() ? Check.RAM : at, text);
+                return text.length() / 8 + 2;
+            }
             case 4: x.list(m, at, n); break;
             case 5:
             case 6:
@@ -92,6 +99,7 @@ public final class RandomTest {
             case 34: x.go(m); break;
             default: x.trace(m, n, random.nextInt(6) - 1); x.count(n); break;
         }
+        return 2;
     }
 
     private static void thrown(Runnable call) {

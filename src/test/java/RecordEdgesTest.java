@@ -83,8 +83,10 @@ public final class RecordEdgesTest {
         CHECK.due("anew", x.record(0, true), 1);
         CHECK.due("one", x.poke(0, RAM + 4096, 1), 1);
         CHECK.due("room", room(x), 199);
-        x.record(0, false);
+        x = Check.house(1, 2, "j 0x80000000");
         CHECK.due("without a record there is always room", room(x), 201);
+        x.record(0, true);
+        CHECK.due("none of these counts", room(x), 200);
     }
 
     private static RiscMonitor listening() {
@@ -167,6 +169,17 @@ public final class RecordEdgesTest {
         CHECK.due("trace", trace(x), trace);
         CHECK.due("the book is empty", x.block(0, 0), 0);
         CHECK.due("harts are in none", x.hart(0, 0, 4) + x.hart(0, 1, 4), -2);
+        x = Stage.in(1, false, "nop\nnop\nnop", 0x304, 0x80);
+        x.time(0, -3);
+        x.record(0, true);
+        x.run(0, 3);
+        CHECK.due("an interrupt", x.state(0, 7), 2);
+        x.back(0, 1);
+        CHECK.due("done again it doesn't count", x.state(0, 7), 2);
+        CHECK.due("in M, by the interrupt", x.hart(0, 0, 0), 3);
+        CHECK.due("replay", x.replay(0), 1);
+        CHECK.due("alike", x.alike(0, 1), 1);
+        CHECK.due("nor in a replay", x.state(1, 7), 0);
         x = Check.house(1, 1, "nop", "nop", "nop");
         x.record(0, true);
         x.run(0, 1);

@@ -13,6 +13,8 @@ public final class ReservationTest {
         fromOutside();
         byDevices();
         conditional();
+        reservedLoads();
+        guestSizes();
         listedAtTheEnd();
         CHECK.end();
     }
@@ -194,6 +196,50 @@ public final class ReservationTest {
         x = Check.ran(4, "la s0," + DATA, "amoadd.d s0,s0,(s0)", "nop");
         CHECK.due("amo: what is stored", Check.dword(x, 0, DATA), DATA);
         CHECK.due("rd", x.register(0, 0, 8), 0);
+    }
+
+    private static void reservedLoads() {
+        CHECK.about("term 2: lr");
+        RiscMonitor x = Check.house(1, 2, "la s0," + DATA, "lr.w a0,(s0)", "lr.d a1,(s0)");
+        Check.make(x, 0, DATA, ".dword 0x7123456789abcdef");
+        x.run(0, 4);
+        CHECK.due("of 32 bits, sign filled", x.register(0, 0, 10), 0xffffffff89abcdefL);
+        CHECK.due("of 64", x.register(0, 0, 11), 0x7123456789abcdefL);
+    }
+
+    /** hlv, hlvx and hsv of each size; no stage is on, so the places are physical. */
+    private static void guestSizes() {
+        CHECK.about("term 2: hlv, hsv");
+        String[] loads = {"hlv.b", "hlv.bu", "hlv.h", "hlv.hu", "hlvx.hu", "hlv.w", "hlv.wu", "hlvx.wu", "hlv.d"};
+        int[] sizes = {1, 1, 2, 2, 2, 4, 4, 4, 8};
+        long data = 0xf1e2d3c4b5a69788L;
+        for (int i = 0; i < loads.length; i++) {
+            for (int at = 0; at <= 8; at++) {
+                RiscMonitor x = Check.house(1, 2, "la s0," + (DATA + at), loads[i] + " a0,(s0)");
+                Check.make(x, 0, DATA, ".dword 0x" + Long.toHexString(data) + ",0x" + Long.toHexString(~data));
+                x.run(0, 3);
+                boolean even = at % sizes[i] == 0;
+                int shift = 64 - 8 * sizes[i];
+                long raw = (at == 8 ? ~data : data >>> 8 * at) << shift;
+                boolean signed = !loads[i].endsWith("u");
+                CHECK.due(loads[i] + " at " + at + ": cause", x.control(0, 0, 0x342), even ? 0 : 4);
+                CHECK.due(loads[i] + " at " + at, x.register(0, 0, 10), !even ? 0 : signed ? raw >> shift : raw >>> shift);
+            }
+        }
+        String[] stores = {"hsv.b", "hsv.h", "hsv.w", "hsv.d"};
+        for (int bits = 0; bits < 4; bits++) {
+            for (int at = 0; at <= 8; at++) {
+                RiscMonitor x = Check.house(1, 2, "la s0," + (DATA + at), stores[bits] + " zero,(s0)");
+                Check.make(x, 0, DATA, ".dword -1,-1");
+                x.run(0, 3);
+                boolean even = at % (1 << bits) == 0;
+                CHECK.due(stores[bits] + " at " + at + ": cause", x.control(0, 0, 0x342), even ? 0 : 6);
+                for (int i = 0; i < 16; i++) {
+                    boolean stored = even && i >= at && i < at + (1 << bits);
+                    CHECK.due(stores[bits] + " at " + at + ": byte " + i, x.cell(0, DATA + i), stored ? 0 : 255);
+                }
+            }
+        }
     }
 
     private static void listedAtTheEnd() {

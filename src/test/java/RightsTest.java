@@ -18,6 +18,8 @@ public final class RightsTest {
         pagingRights();
         counterRights();
         guestsOwn();
+        distinct();
+        ownPartOfPending();
         CHECK.end();
     }
 
@@ -170,18 +172,24 @@ public final class RightsTest {
         CHECK.due("bits 5 and 6 stay 0", x.control(0, 0, 0x3a0), 0);
     }
 
-    /** All addresses are written behind a byte with L and A. */
+    /** All addresses are written behind a byte with L (or without it) and A, and with all rights or none. */
     private static void locked(int entry, long a) {
+        locked(entry, a, 0x80);
+        locked(entry, a, 0x87);
+        locked(entry, a, 0x07);
+    }
+
+    private static void locked(int entry, long a, long bits) {
         long[] pairs = new long[18];
         pairs[0] = 0x3a0;
-        pairs[1] = (0x80 | a << 3) << 8 * entry;
+        pairs[1] = (bits | a << 3) << 8 * entry;
         for (int i = 0; i < 8; i++) {
             pairs[2 + 2 * i] = 0x3b0 + i;
             pairs[3 + 2 * i] = 0x3fffffffffffffL;
         }
         RiscMonitor x = Stage.in(3, false, "nop", pairs);
         for (int i = 0; i < 8; i++) {
-            boolean stays = i == entry || i == entry - 1 && a == 1;
+            boolean stays = bits >= 0x80 && (i == entry || i == entry - 1 && a == 1);
             CHECK.due("L, A " + a + " of entry " + entry + ": pmpaddr " + i, x.control(0, 0, 0x3b0 + i), stays ? 0 : 0x3fffffffffffffL);
         }
     }
@@ -289,5 +297,47 @@ public final class RightsTest {
         CHECK.due("sie is vsie", x.control(0, 0, 0x604), 0x444);
         CHECK.due("sip is vsip", x.control(0, 0, 0x645), 4);
         CHECK.due("mip has none of S", x.control(0, 0, 0x344), 4);
+    }
+
+    /** Each register keeps what was written to it, whatever is written to the others. */
+    private static void distinct() {
+        CHECK.about("term 4: no register is another");
+        int[] numbers = {0x302, 0x304, 0x305, 0x306, 0x320, 0x340, 0x341, 0x342, 0x343, 0x344, 0x34a, 0x34b, 0x3b0, 0x3b1, 0x3b2, 0x3b3, 0x3b4, 0x3b5, 0x3b6, 0x3b7, 0x105, 0x106, 0x140, 0x141, 0x142, 0x143, 0x180,
+            0x600, 0x602, 0x603, 0x605, 0x606, 0x643, 0x64a, 0x680, 0x200, 0x205, 0x240, 0x241, 0x242, 0x243, 0x280};
+        long[] masks = {0xf0b7ff, 0xeee, ~2L, 7, 5, -1, ~1L, -1, -1, 0x222, -1, -1, -1, -1, -1, -1, -1, -1, -1, -1, ~2L, 7, -1, ~1L, -1, -1, -1, 0x7003c0, 0xb1ff, 0x444, -1, 7, -1, -1, ~3L, 0xc0122, ~2L, -1, ~1L, -1, -1, -1};
+        for (int round = 0; round < 2; round++) {
+            StringBuilder text = new StringBuilder();
+            for (int k = 0; k < numbers.length; k++) {
+                int i = round == 0 ? k : numbers.length - 1 - k;
+                text.append("li a0,").append(value(i)).append("\ncsrw ").append(numbers[i]).append(",a0\n");
+            }
+            RiscMonitor x = Check.house(1, 1, text.toString(), "csrw 0x320,a1", "e: j e");
+            x.run(0, 200);
+            for (int i = 0; i < numbers.length; i++) {
+                long fixed = numbers[i] == 0x600 || numbers[i] == 0x200 ? 0x200000000L : 0;
+                CHECK.due(Integer.toHexString(numbers[i]), x.control(0, 0, numbers[i]), numbers[i] == 0x320 ? 0 : value(i) & masks[i] | fixed);
+            }
+            CHECK.due("mip: with hvip's", x.control(0, 0, 0x645), value(9) & 4);
+        }
+    }
+
+    private static int value(int i) {
+        return 0x5a3c96f & (0x7ffffff >>> i % 5) ^ i * 0x10101 + (i % 2 == 0 ? 0x222 : 0x444);
+    }
+
+    /** The controller's SEIP is not what csrrs and csrrc find in mip. */
+    private static void ownPartOfPending() {
+        CHECK.about("term 4: by sets and clears from that part alone");
+        String[] lines = {"csrrsi a0,0x344,2", "csrrci a0,0x344,2", "csrrs a0,0x344,zero", "csrrs a0,0x344,s3", "csrrc a0,0x344,s3", "csrrw a0,0x344,s3", "csrrw a0,0x344,zero"};
+        long[] own = {2, 0, 0, 0x200, 0, 0x200, 0};
+        for (int i = 0; i < lines.length; i++) {
+            RiscMonitor x = Check.house(1, 1, "la s0,0xc000010", "la s1,0xc002080", "li s2,16", "li s3,512", "sw s2,4(s0)", "li t0,7", "sw t0,0(s0)", "sw s2,0(s1)", lines[i], "sw zero,0(s1)", "wfi");
+            x.wire(0, 4, true);
+            x.run(0, 11);
+            CHECK.due(lines[i] + ": what it was", x.register(0, 0, 10), 512);
+            CHECK.due(lines[i] + ": SEIP is the controller's", x.control(0, 0, 0x344) & 512, 512);
+            x.run(0, 1);
+            CHECK.due(lines[i] + ": the own part", x.control(0, 0, 0x344), own[i]);
+        }
     }
 }

@@ -22,7 +22,7 @@ public final class RoomTest {
             Check.make(x, m, Check.RAM, "li s0,0x80", "slli s0,s0,24", "a: addi a0,a0,1", "sd a0,512(s0)", "amoadd.w a1,a0,(s0)", "lr.d a2,(s0)", "csrr a3,0x344", "j a");
             x.record(m, true);
         }
-        for (int i = 0; i < 60; i++) {
+        for (int i = 0; i < 24; i++) {
             x.run(i % 3, 2000);
             x.back(i % 3, 500);
             x.picture(i % 3);

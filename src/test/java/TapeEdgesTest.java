@@ -25,6 +25,7 @@ public final class TapeEdgesTest {
         texts();
         atRamsEnd();
         firstOfSeveral();
+        twice();
         sizesOfLines();
         refused();
         CHECK.end();
@@ -206,6 +207,11 @@ public final class TapeEdgesTest {
         fault("1:", 0);
         fault("::", 0);
         fault("a::", 2);
+        fault("mv a0,a0!", 6);
+        fault("mv a0,!a0", 6);
+        fault("mv a0,a0~", 6);
+        fault("mv a0,a0 !", 9);
+        fault("nop!", 0);
     }
 
     private static void range(String ahead, String behind, long least, long most) {
@@ -526,6 +532,21 @@ public final class TapeEdgesTest {
         fault("j y\n? x: nop\nj x", 2);
         fault("? x: nop\nj x", 0);
         fault("nop\n? x: nop\nj x", 4);
+        fault("add: add: add x1,x2,x3", 5);
+        fault("add: add: add x1", 5);
+        fault(labels(100) + "add: add x1,x2", labels(100).length());
+    }
+
+    private static void twice() {
+        CHECK.about("promise 5: each tape has its own labels");
+        RiscMonitor x = new RiscMonitor();
+        x.computer(1, 1);
+        for (int i = 0; i < 3; i++) {
+            CHECK.due("the same label", Check.make(x, 0, RAM + 4 * i, "a: j a"), 4);
+            CHECK.due("its place", Check.listed(x, 0, RAM + 4 * i), "jal x0, +0");
+        }
+        CHECK.due("a label of an older tape", Check.make(x, 0, RAM, "b: j a"), -1 - 5);
+        CHECK.due("behind a fault", Check.make(x, 0, RAM, "b: j b"), 4);
     }
 
     /** beqz reaches 4,094 bytes: whether it has a fault tells how many bytes the line behind 4,090 others has. */
