@@ -84,7 +84,8 @@ public final class AccessEdgesTest {
 
     private static String data(Walker walker, long from, long to) {
         StringBuilder text = new StringBuilder();
-        walker.entries.entrySet().stream().filter(e -> e.getKey() >= from && e.getKey() < to).sorted(java.util.Map.Entry.comparingByKey()).forEach(e -> {
+        walker.entries.entrySet().stream().filter(e -> e.getKey() >= from
+                && e.getKey() < to).sorted(java.util.Map.Entry.comparingByKey()).forEach(e -> {
             text.append(e.getKey()).append(' ').append("0x").append(Long.toHexString(e.getValue())).append('\n');
         });
         return text.toString();
@@ -120,7 +121,8 @@ public final class AccessEdgesTest {
     }
 
     private static long guestAddress(Random random) {
-        long at = random.nextInt(3) == 0 ? RAM + random.nextInt(17) * PAGE + 5 : pick(random, 0, 1, 2, 3, 511, 512, 2046, 2047) << 30 | pick(random, 0, 1, 511) << 21 | pick(random, 0, 7, 511) << 12;
+        long at = random.nextInt(3) == 0 ? RAM + random.nextInt(17) * PAGE + 5 : pick(random, 0, 1, 2, 3, 511, 512, 2046,
+                2047) << 30 | pick(random, 0, 1, 511) << 21 | pick(random, 0, 7, 511) << 12;
         return random.nextInt(10) == 0 ? at ^ 1L << 39 + random.nextInt(25) : at;
     }
 
@@ -136,7 +138,8 @@ public final class AccessEdgesTest {
         walker.hgatp = random.nextInt(4) != 0 ? SV39 | G_TABLE >>> 12 : G_TABLE >>> 12;
         fill(random, walker, new long[] {TABLE, RAM + 5 * PAGE, RAM + 6 * PAGE}, new long[] {0, 1, 2, 3, 511});
         fillGuest(random, walker);
-        RiscMonitor x = Stage.in(mode, v, "nop", 0x180, walker.satp, 0x280, walker.vsatp, 0x680, walker.hgatp, 0x300, walker.mstatus, 0x200, walker.vsstatus);
+        RiscMonitor x = Stage.in(mode, v, "nop", 0x180, walker.satp, 0x280, walker.vsatp, 0x680, walker.hgatp, 0x300, walker.mstatus,
+                0x200, walker.vsstatus);
         put(x, walker);
         CHECK.about("term 5: tables " + seed + ", mode " + mode + (v ? " with V" : ""));
         for (int i = 0; i < WALKS; i++) {
@@ -157,7 +160,8 @@ public final class AccessEdgesTest {
         Walker walker = new Walker();
         boolean paged = random.nextInt(5) != 0;
         int mode = random.nextInt(2);
-        String name = new String[] {"hlv.b", "hlv.h", "hlv.w", "hlv.d", "hlv.bu", "hlv.hu", "hlv.wu", "hlvx.hu", "hlvx.wu", "hsv.b", "hsv.h", "hsv.w", "hsv.d"}[seed % 13];
+        String name = new String[] {"hlv.b", "hlv.h", "hlv.w", "hlv.d", "hlv.bu", "hlv.hu", "hlv.wu", "hlvx.hu", "hlvx.wu", "hsv.b",
+                "hsv.h", "hsv.w", "hsv.d"}[seed % 13];
         int size = new int[] {1, 2, 4, 8, 1, 2, 4, 2, 4, 1, 2, 4, 8}[seed % 13];
         boolean loads = !name.startsWith("hsv");
         walker.mstatus = (long) random.nextInt(4) << 18;
@@ -179,7 +183,8 @@ public final class AccessEdgesTest {
             faults[i] = guestFault(walker, row[i], size, mode, name);
             text.append("\n.dword 0x").append(Long.toHexString(row[i]));
         }
-        RiscMonitor x = Stage.in(3, false, text.toString(), 0x280, walker.vsatp, 0x680, walker.hgatp, 0x300, walker.mstatus, 0x200, walker.vsstatus, 0x600, mode << 8);
+        RiscMonitor x = Stage.in(3, false, text.toString(), 0x280, walker.vsatp, 0x680, walker.hgatp, 0x300, walker.mstatus, 0x200,
+                walker.vsstatus, 0x600, mode << 8);
         put(x, first);
         CHECK.about("term 5: " + name + " " + seed + ", SPVP " + mode);
         x.run(0, 2);
@@ -257,7 +262,8 @@ public final class AccessEdgesTest {
             } catch (Walker.Fault fault) {
                 want = -10 - fault.cause;
             }
-            CHECK.due("walk of " + Long.toHexString(at) + ", kind " + kind + ", rules " + Long.toHexString(walker.rules), x.walk(0, 0, at, kind), want);
+            CHECK.due("walk of " + Long.toHexString(at) + ", kind " + kind + ", rules " + Long.toHexString(walker.rules), x.walk(0, 0, at,
+                    kind), want);
         }
     }
 
@@ -281,7 +287,8 @@ public final class AccessEdgesTest {
                         } catch (Walker.Fault fault) {
                             cause = fault.cause;
                         }
-                        RiscMonitor x = Stage.in(3, false, "la s1," + at + "\n" + lines[i] + " a0," + from + "(s1)", 0x3b0, walker.places[0], 0x3b1, walker.places[1], 0x3b2, walker.places[2], 0x3a0, walker.rules, 0x300, 1 << 17);
+                        RiscMonitor x = Stage.in(3, false, "la s1," + at + "\n" + lines[i] + " a0," + from + "(s1)", 0x3b0,
+                                walker.places[0], 0x3b1, walker.places[1], 0x3b2, walker.places[2], 0x3a0, walker.rules, 0x300, 1 << 17);
                         x.run(0, 3);
                         CHECK.due(lines[i] + " at " + from + ", A " + shape + ", rights " + rights, Stage.cause(x), cause);
                     }
@@ -291,7 +298,8 @@ public final class AccessEdgesTest {
         // From a place up to the same place there is no byte, also in the midst of an access.
         for (int shift = 0; shift <= 2; shift++) {
             long place = at / 4 + shift;
-            RiscMonitor x = Stage.in(3, false, "la s1," + at + "\nld a0,0(s1)", 0x3b0, place, 0x3b1, place, 0x3b2, (1L << 54) - 1, 0x3a0, 0x1b0800, 0x300, 1 << 17);
+            RiscMonitor x = Stage.in(3, false, "la s1," + at + "\nld a0,0(s1)", 0x3b0, place, 0x3b1, place, 0x3b2, (1L << 54) - 1, 0x3a0,
+                    0x1b0800, 0x300, 1 << 17);
             x.run(0, 3);
             CHECK.due("an empty row at " + 4 * shift, Stage.cause(x), 0);
         }
@@ -310,7 +318,8 @@ public final class AccessEdgesTest {
             CHECK.due("rights " + rights, Stage.cause(x), rights == 4 ? 0 : 1);
             CHECK.due("where", x.control(0, 0, 0x343), rights == 4 ? 0 : RAM + PAGE);
         }
-        RiscMonitor x = Stage.in(0, false, "j 0x80000ffe\n.zero 2042\n.word 0x13\n.word 0x13", 0x3b0, RAM / 4 | 511, 0x3b1, RAM / 4 | 1023, 0x3a0, 0x1f1f);
+        RiscMonitor x = Stage.in(0, false, "j 0x80000ffe\n.zero 2042\n.word 0x13\n.word 0x13", 0x3b0, RAM / 4 | 511, 0x3b1, RAM / 4 | 1023,
+                0x3a0, 0x1f1f);
         x.run(0, 2);
         CHECK.due("a word over two entries", x.hart(0, 0, 1), RAM + PAGE + 2);
         x = Stage.in(0, false, "j 0x80000ffe\n.zero 2042\n.word 0x13\n.word 0x13", 0x3b0, RAM / 4 | 511, 0x3a0, 0x1f);
@@ -330,7 +339,8 @@ public final class AccessEdgesTest {
                 boolean mprv = (set & 1) != 0;
                 boolean mpv = (set & 2) != 0;
                 // satp's entry 0 is of S, vsatp's of U, both are RAM from its beginning on; hgatp is off.
-                RiscMonitor x = Stage.in(3, false, "nop", 0x180, SV39 | TABLE >>> 12, 0x280, SV39 | TABLE + PAGE >>> 12, 0x300, (long) mpp << 11 | (mprv ? 1 << 17 : 0) | (mpv ? 1L << 39 : 0));
+                RiscMonitor x = Stage.in(3, false, "nop", 0x180, SV39 | TABLE >>> 12, 0x280, SV39 | TABLE + PAGE >>> 12, 0x300,
+                        (long) mpp << 11 | (mprv ? 1 << 17 : 0) | (mpv ? 1L << 39 : 0));
                 Walker walker = new Walker();
                 walker.entries.put(TABLE, leaf);
                 walker.entries.put(TABLE + PAGE, user);
@@ -403,8 +413,10 @@ public final class AccessEdgesTest {
     /** Hart 1 goes to S with a table and a protection of its own; hart 0 stays in M. */
     private static void hartsOfTheirOwn() {
         CHECK.about("term 5: each hart by its own registers");
-        RiscMonitor x = Check.house(2, 16, "csrr t0,0xf14", "la s0,d", "bnez t0,b", "a: ld a0,0(s0)", "j a", "b: ld t1,0(s0)", "csrw 0x180,t1", "li t1,1", "slli t1,t1,11", "csrw 0x300,t1", "la t1,0x40000000", "addi t1,t1,96",
-                "csrw 0x341,t1", "mret", ".zero 32", "hlv.b a0,(zero)", "ld a1,8(t2)", "j 0x80000060", ".align 3", "d: .dword 0x" + Long.toHexString(SV39 | TABLE >>> 12));
+        RiscMonitor x = Check.house(2, 16, "csrr t0,0xf14", "la s0,d", "bnez t0,b", "a: ld a0,0(s0)", "j a", "b: ld t1,0(s0)",
+                "csrw 0x180,t1", "li t1,1", "slli t1,t1,11", "csrw 0x300,t1", "la t1,0x40000000", "addi t1,t1,96",
+                "csrw 0x341,t1", "mret", ".zero 32", "hlv.b a0,(zero)", "ld a1,8(t2)", "j 0x80000060", ".align 3",
+                        "d: .dword 0x" + Long.toHexString(SV39 | TABLE >>> 12));
         Walker walker = new Walker();
         walker.entries.put(TABLE + 8, entry(RAM, 0xcf));
         put(x, walker);
@@ -441,7 +453,8 @@ public final class AccessEdgesTest {
     private static void secondOfS() {
         CHECK.about("term 4: htval");
         for (long at : new long[] {0x1234560, 0x7ffffffff8L, 8}) {
-            RiscMonitor x = Stage.in(1, false, "la s1,q\nld s1,0(s1)\nhlv.d a0,(s1)\n.align 3\nq: .dword " + at, 0x680, SV39 | G_TABLE >>> 12, 0x302, -1);
+            RiscMonitor x = Stage.in(1, false, "la s1,q\nld s1,0(s1)\nhlv.d a0,(s1)\n.align 3\nq: .dword " + at, 0x680,
+                    SV39 | G_TABLE >>> 12, 0x302, -1);
             x.run(0, 4);
             CHECK.due("to S", x.hart(0, 0, 1), Stage.S_HANDLER);
             CHECK.due("scause", x.control(0, 0, 0x142), 21);

@@ -171,7 +171,8 @@ public final class BlockEdgesTest {
 
     private static void ownBlockGone() {
         CHECK.about("term 8: each store into a page drops all blocks of that page");
-        String[] stores = {"sb a0,0(s0)", "sh a0,0(s0)", "sw a0,0(s0)", "sd a0,0(s0)", "amoadd.w a0,a0,(s0)", "amoor.d a0,zero,(s0)", "sc.w a1,a0,(s0)"};
+        String[] stores = {"sb a0,0(s0)", "sh a0,0(s0)", "sw a0,0(s0)", "sd a0,0(s0)", "amoadd.w a0,a0,(s0)", "amoor.d a0,zero,(s0)",
+                "sc.w a1,a0,(s0)"};
         for (String line : stores) {
             RiscMonitor x = Check.house(1, 2, "la s0,0x80000ff8", "lr.w a0,(s0)", line, "nop", "nop");
             x.run(0, 4);
@@ -194,7 +195,8 @@ public final class BlockEdgesTest {
     /** A command of a device that stores from a place on, of so many bytes; the block is in page 1. */
     private static long dropped(String device, long to, long count) {
         boolean disk = device.equals("disk");
-        RiscMonitor x = Check.house(1, 3, "la s0," + (disk ? 0x10001000L : 0x10002000L), "la a1," + to, "sd a1,8(s0)", "la a2," + count, disk ? "nop" : "sd a2,16(s0)", "li a3," + (disk ? 1 : 2),
+        RiscMonitor x = Check.house(1, 3, "la s0," + (disk ? 0x10001000L : 0x10002000L), "la a1," + to, "sd a1,8(s0)", "la a2," + count,
+                disk ? "nop" : "sd a2,16(s0)", "li a3," + (disk ? 1 : 2),
                 "la t0,0x80001800", "jr t0", ".align 11", ".zero 4096", disk ? "sw a3,16(s0)" : "sw a3,24(s0)", "nop", "nop");
         x.run(0, 13);
         CHECK.due("pc", x.hart(0, 0, 1), RAM + 0x1800 + 4);
@@ -255,7 +257,8 @@ public final class BlockEdgesTest {
         String[] ends = {"", "la s0,0x100000\nli a0,0x7777\n", "la s0,0x10003000\nli a0,1\n"};
         String[] stores = {"nop", "sw a0,0(s0)", "sd a0,0(s0)"};
         for (int kind = 0; kind < 3; kind++) {
-            RiscMonitor x = Check.house(2, 1, "csrr t0,0xf14", "bnez t0,b", ends[kind] + "nop", stores[kind], "nop", "nop", "nop", "nop", "j 0x80000008", "b: nop\nnop\nnop\nnop\nnop\nnop\nnop\nnop\nnop\nnop\nnop\nnop");
+            RiscMonitor x = Check.house(2, 1, "csrr t0,0xf14", "bnez t0,b", ends[kind] + "nop", stores[kind], "nop", "nop", "nop", "nop",
+                    "j 0x80000008", "b: nop\nnop\nnop\nnop\nnop\nnop\nnop\nnop\nnop\nnop\nnop\nnop");
             int ahead = kind == 0 ? 2 : kind == 1 ? 5 : 4;
             x.run(0, 2 * (2 + ahead));
             CHECK.due("hart 0 is in a block", x.hart(0, 0, 4) > 0 ? 1 : 0, 1);
@@ -368,10 +371,12 @@ public final class BlockEdgesTest {
         Book book = new Book();
         // s0 is RAM, s1 page 1, both sign filled by lui, so they are shifted right to their places.
         StringBuilder text = new StringBuilder();
-        String[] lines = {"lui s0,0x80000", "slli s0,s0,32", "srli s0,s0,32", "lui s1,0x80001", "slli s1,s1,32", "srli s1,s1,32", "addi s0,s0,1024", "addi t0,s0,-992", "csrw 0x305,t0"};
+        String[] lines = {"lui s0,0x80000", "slli s0,s0,32", "srli s0,s0,32", "lui s1,0x80001", "slli s1,s1,32", "srli s1,s1,32",
+                "addi s0,s0,1024", "addi t0,s0,-992", "csrw 0x305,t0"};
         RiscMonitor code = Check.house(1, 1, lines);
         for (int i = 0; i < 64; i++) {
-            book.words[i] = i < lines.length ? (int) (code.cell(0, RAM + 4 * i) | code.cell(0, RAM + 4 * i + 1) << 8 | code.cell(0, RAM + 4 * i + 2) << 16 | code.cell(0, RAM + 4 * i + 3) << 24)
+            book.words[i] = i < lines.length ? (int) (code.cell(0, RAM + 4 * i) | code.cell(0, RAM + 4 * i + 1) << 8 | code.cell(0,
+                    RAM + 4 * i + 2) << 16 | code.cell(0, RAM + 4 * i + 3) << 24)
                     : i == 63 ? 0xf25ff06f : word(random, i);
             text.append(i % 16 == 0 ? "\n.word " : ",").append(book.words[i] & 0xffffffffL);
         }

@@ -27,7 +27,8 @@ public final class ComputeTest {
 
     /** A computing instruction of a0 and a1 into a2, of each two of the numbers: 2 calls a pair. */
     private static void each(String name, LongBinaryOperator want) {
-        RiscMonitor x = Check.house(1, 1, "la s0,v", "la s3,w", "b: ld a0,0(s0)", "la s1,v", "a: ld a1,0(s1)", name + " a2,a0,a1", "addi s1,s1,8", "bne s1,s3,a",
+        RiscMonitor x = Check.house(1, 1, "la s0,v", "la s3,w", "b: ld a0,0(s0)", "la s1,v", "a: ld a1,0(s1)", name + " a2,a0,a1",
+                "addi s1,s1,8", "bne s1,s3,a",
                 "addi s0,s0,8", "j b", ".align 3", "v: .dword " + row(), "w:");
         x.run(0, 4);
         for (long a : NUMBERS) {
@@ -50,7 +51,8 @@ public final class ComputeTest {
 
     /** An instruction of a0 into a2 (its operands behind a0 are told), of each of the numbers. */
     private static void eachOne(String name, String more, LongBinaryOperator want) {
-        RiscMonitor x = Check.house(1, 1, "la s0,v", "a: ld a0,0(s0)", name + " a2,a0" + more, "addi s0,s0,8", "j a", ".align 3", "v: .dword " + row());
+        RiscMonitor x = Check.house(1, 1, "la s0,v", "a: ld a0,0(s0)", name + " a2,a0" + more, "addi s0,s0,8", "j a", ".align 3",
+                "v: .dword " + row());
         x.run(0, 2);
         for (long a : NUMBERS) {
             x.run(0, 4);
@@ -237,7 +239,8 @@ public final class ComputeTest {
     /** Of 64 and of 32 bits: what was there comes to a2, what is there then to a3; 3 calls a pair. */
     private static void atomic(String name, LongBinaryOperator want) {
         for (int wide = 0; wide < 2; wide++) {
-            RiscMonitor x = Check.house(1, 2, "la s0,v", "la s3,w", "la s2,0x80001000", "b: ld a0,0(s0)", "la s1,v", "a: ld a1,0(s1)", "sd a0,0(s2)", name + (wide == 1 ? ".d" : ".w") + " a2,a1,(s2)", "ld a3,0(s2)",
+            RiscMonitor x = Check.house(1, 2, "la s0,v", "la s3,w", "la s2,0x80001000", "b: ld a0,0(s0)", "la s1,v", "a: ld a1,0(s1)",
+                    "sd a0,0(s2)", name + (wide == 1 ? ".d" : ".w") + " a2,a1,(s2)", "ld a3,0(s2)",
                     "addi s1,s1,8", "bne s1,s3,a", "addi s0,s0,8", "j b", ".align 3", "v: .dword " + row(), "w:");
             x.run(0, 6);
             for (long a : NUMBERS) {
@@ -256,7 +259,8 @@ public final class ComputeTest {
 
     /** Whether a branch is taken, of each two of the numbers: a2 is 1 if it is. */
     private static void taken(String name, LongBinaryOperator want) {
-        RiscMonitor x = Check.house(1, 1, "la s0,v", "la s3,w", "b: ld a0,0(s0)", "la s1,v", "a: ld a1,0(s1)", "li a2,1", name + " a0,a1,c", "li a2,0",
+        RiscMonitor x = Check.house(1, 1, "la s0,v", "la s3,w", "b: ld a0,0(s0)", "la s1,v", "a: ld a1,0(s1)", "li a2,1",
+                name + " a0,a1,c", "li a2,0",
                 "c: addi s1,s1,8", "bne s1,s3,a", "addi s0,s0,8", "j b", ".align 3", "v: .dword " + row(), "w:");
         x.run(0, 4);
         for (long a : NUMBERS) {

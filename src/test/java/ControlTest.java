@@ -272,7 +272,8 @@ public final class ControlTest {
 
     private static void interrupts() {
         CHECK.about("promise 12, interrupts");
-        RiscMonitor x = Check.house(1, 1, "la t0,0x80000101", "csrw 0x305,t0", "li a0,0x222", "csrw 0x304,a0", "csrw 0x344,a0", "csrrsi a1,0x300,8", "nop");
+        RiscMonitor x = Check.house(1, 1, "la t0,0x80000101", "csrw 0x305,t0", "li a0,0x222", "csrw 0x304,a0", "csrw 0x344,a0",
+                "csrrsi a1,0x300,8", "nop");
         x.run(0, 7);
         CHECK.due("not yet", x.hart(0, 0, 1), RAM + 28);
         x.run(0, 1);

@@ -24,9 +24,11 @@ public final class DeviceEdgesTest {
 
     private static void power() {
         CHECK.about("term 6: POWER");
-        long[] words = {0x5555, 0xffff5555L, 0x3333, 0xffff3333L, 0x00013333, 0x7777, 0xffff7777L, 0, 1, 0x5554, 0x5556, 0x3332, 0x3334, 0x7776, 0x7778, 0x55550000L};
+        long[] words = {0x5555, 0xffff5555L, 0x3333, 0xffff3333L, 0x00013333, 0x7777, 0xffff7777L, 0, 1, 0x5554, 0x5556, 0x3332, 0x3334,
+                0x7776, 0x7778, 0x55550000L};
         for (long word : words) {
-            RiscMonitor x = Check.house(2, 1, "csrw 0x340,sp", "li a0,9", "la s0,0x100000", "la s1,d", "lw a1,0(s1)", "sw a1,0(s0)", "lw a2,0(s0)", "j 0x80000020", ".align 3", "d: .word " + word);
+            RiscMonitor x = Check.house(2, 1, "csrw 0x340,sp", "li a0,9", "la s0,0x100000", "la s1,d", "lw a1,0(s1)", "sw a1,0(s0)",
+                    "lw a2,0(s0)", "j 0x80000020", ".align 3", "d: .word " + word);
             x.run(0, 14);
             CHECK.due("nothing yet", x.state(0, 0), 0);
             CHECK.due("turn", x.state(0, 4), 0);
@@ -53,7 +55,8 @@ public final class DeviceEdgesTest {
     private static void gate() {
         CHECK.about("term 6: GATE");
         for (int h = 0; h < 4; h++) {
-            RiscMonitor x = Check.house(4, 1, "csrr t0,0xf14", "bnez t0,0x80000100", "la s0,0x2000000", "la s1,0x2004000", "li a0,-2", "sw a0," + 4 * h + "(s0)", "lw a1," + 4 * h + "(s0)",
+            RiscMonitor x = Check.house(4, 1, "csrr t0,0xf14", "bnez t0,0x80000100", "la s0,0x2000000", "la s1,0x2004000", "li a0,-2",
+                    "sw a0," + 4 * h + "(s0)", "lw a1," + 4 * h + "(s0)",
                     "li a0,3", "sw a0," + 4 * h + "(s0)", "lw a2," + 4 * h + "(s0)", "sd zero," + 8 * h + "(s1)", "ld a3," + 8 * h + "(s1)", "wfi");
             x.run(0, 60);
             CHECK.due("bit 0 alone, unset", x.register(0, 0, 11), 0);
@@ -66,7 +69,8 @@ public final class DeviceEdgesTest {
         long[] compares = {0, 1, Long.MAX_VALUE, Long.MIN_VALUE, -1};
         long[] times = {0, 1, 2, Long.MAX_VALUE - 1, Long.MAX_VALUE, Long.MIN_VALUE, -2, -1};
         for (long compare : compares) {
-            RiscMonitor x = Check.house(1, 1, "la s0,0x2004000", "la s1,d", "ld a0,0(s1)", "sd a0,0(s0)", "wfi", ".align 3", "d: .dword 0x" + Long.toHexString(compare));
+            RiscMonitor x = Check.house(1, 1, "la s0,0x2004000", "la s1,d", "ld a0,0(s1)", "sd a0,0(s0)", "wfi", ".align 3",
+                    "d: .dword 0x" + Long.toHexString(compare));
             x.run(0, 7);
             for (long time : times) {
                 x.time(0, time);
@@ -83,8 +87,10 @@ public final class DeviceEdgesTest {
 
     /** Priorities of sources 4 .. 7, context 0's enabled bits and threshold, then CLAIMs into a0 .. a4. */
     private static RiscMonitor claims(int p4, int p5, int p6, int p7, int enabled, int threshold) {
-        RiscMonitor x = Check.house(1, 1, "la s0,0xc000000", "la s1,0xc002000", "la s2,0xc200000", "li t0," + p4, "sw t0,16(s0)", "li t0," + p5, "sw t0,20(s0)",
-                "li t0," + p6, "sw t0,24(s0)", "li t0," + p7, "sw t0,28(s0)", "li t0," + enabled, "sw t0,0(s1)", "li t0," + threshold, "sw t0,0(s2)", "csrr s3,0x344",
+        RiscMonitor x = Check.house(1, 1, "la s0,0xc000000", "la s1,0xc002000", "la s2,0xc200000", "li t0," + p4, "sw t0,16(s0)",
+                "li t0," + p5, "sw t0,20(s0)",
+                "li t0," + p6, "sw t0,24(s0)", "li t0," + p7, "sw t0,28(s0)", "li t0," + enabled, "sw t0,0(s1)", "li t0," + threshold,
+                        "sw t0,0(s2)", "csrr s3,0x344",
                 "lw a0,4(s2)", "lw a1,4(s2)", "lw a2,4(s2)", "lw a3,4(s2)", "lw a4,4(s2)", "csrr s4,0x344", "wfi");
         for (int s = 4; s <= 7; s++) {
             x.wire(0, s, true);
@@ -114,7 +120,8 @@ public final class DeviceEdgesTest {
         claimed("enabled ones alone", claims(1, 2, 3, 4, 0x50, 0), 6, 4);
         claimed("none is enabled", claims(1, 2, 3, 4, 0x0f, 0));
         claimed("bit 0 and those above 7 are nothing", claims(1, 2, 3, 4, -256 | 1, 0));
-        RiscMonitor x = Check.ran(30, "la s0,0xc000000", "li t0,-1", "sw t0,4(s0)", "lw a0,4(s0)", "sw t0,28(s0)", "lw a1,28(s0)", "la s1,0xc002000", "sw t0,0(s1)", "lw a2,0(s1)",
+        RiscMonitor x = Check.ran(30, "la s0,0xc000000", "li t0,-1", "sw t0,4(s0)", "lw a0,4(s0)", "sw t0,28(s0)", "lw a1,28(s0)",
+                "la s1,0xc002000", "sw t0,0(s1)", "lw a2,0(s1)",
                 "la s2,0xc200000", "sw t0,0(s2)", "lw a3,0(s2)", "la s3,0xc001000", "sw t0,0(s3)", "lw a4,0(s3)", "wfi");
         CHECK.due("the first source", x.register(0, 0, 10), 7);
         CHECK.due("the last", x.register(0, 0, 11), 7);
@@ -125,7 +132,8 @@ public final class DeviceEdgesTest {
 
     /** Source 4 of priority 1 for context 0 is claimed; then lines, with s2 the claim's page, s3 PENDING, s1 enabled ones. */
     private static RiscMonitor served(String... lines) {
-        RiscMonitor x = Check.house(1, 1, "la s0,0xc000000", "la s1,0xc002000", "la s2,0xc200000", "la s3,0xc001000", "li t0,1", "sw t0,16(s0)", "li t0,16", "sw t0,0(s1)",
+        RiscMonitor x = Check.house(1, 1, "la s0,0xc000000", "la s1,0xc002000", "la s2,0xc200000", "la s3,0xc001000", "li t0,1",
+                "sw t0,16(s0)", "li t0,16", "sw t0,0(s1)",
                 "lw a0,4(s2)", String.join("\n", lines), "wfi");
         x.wire(0, 4, true);
         x.run(0, 13);
@@ -167,7 +175,8 @@ public final class DeviceEdgesTest {
     }
 
     private static void severalInService() {
-        RiscMonitor x = Check.house(1, 1, "la s0,0xc000000", "la s1,0xc002000", "la s2,0xc200000", "la s3,0xc001000", "li t0,1", "sw t0,16(s0)", "sw t0,20(s0)", "sw t0,24(s0)", "li t0,112", "sw t0,0(s1)",
+        RiscMonitor x = Check.house(1, 1, "la s0,0xc000000", "la s1,0xc002000", "la s2,0xc200000", "la s3,0xc001000", "li t0,1",
+                "sw t0,16(s0)", "sw t0,20(s0)", "sw t0,24(s0)", "li t0,112", "sw t0,0(s1)",
                 "lw a0,4(s2)", "lw a1,4(s2)", "sw zero,0(s2)", "lw a2,0(s3)", "li t0,4", "sw t0,4(s2)", "lw a3,0(s3)", "lw a4,0(s3)", "wfi");
         x.wire(0, 4, true);
         x.wire(0, 5, true);
@@ -186,7 +195,8 @@ public final class DeviceEdgesTest {
     private static void contexts() {
         CHECK.about("term 6: CONTEXT");
         for (int c = 0; c < 8; c++) {
-            RiscMonitor x = Check.house(4, 1, "csrr t0,0xf14", "bnez t0,0x80000100", "la s0,0xc000000", "la s1," + (0xc002000L + 0x80 * c), "la s2," + (0xc200000L + 0x1000 * c), "li t0,7", "sw t0,28(s0)",
+            RiscMonitor x = Check.house(4, 1, "csrr t0,0xf14", "bnez t0,0x80000100", "la s0,0xc000000", "la s1," + (0xc002000L + 0x80 * c),
+                    "la s2," + (0xc200000L + 0x1000 * c), "li t0,7", "sw t0,28(s0)",
                     "li t0,128", "sw t0,0(s1)", "lw a0,4(s2)", "wfi");
             x.wire(0, 7, true);
             x.run(0, 48);
@@ -201,21 +211,24 @@ public final class DeviceEdgesTest {
 
     private static void serialWire() {
         CHECK.about("term 6: WIRE 1");
-        RiscMonitor x = Check.house(1, 1, "la s0,0x10000000", "la s3,0xc001000", "lw a0,0(s3)", "li t0,-1", "sb t0,1(s0)", "lb a1,1(s0)", "lw a2,0(s3)", "li t0,2", "sb t0,1(s0)", "lb a3,1(s0)", "wfi");
+        RiscMonitor x = Check.house(1, 1, "la s0,0x10000000", "la s3,0xc001000", "lw a0,0(s3)", "li t0,-1", "sb t0,1(s0)", "lb a1,1(s0)",
+                "lw a2,0(s3)", "li t0,2", "sb t0,1(s0)", "lb a3,1(s0)", "wfi");
         x.key(0, 9);
         x.run(0, 20);
         CHECK.due("a key waits, bit 0 is unset", x.register(0, 0, 10), 0);
         CHECK.due("bit 0 alone", x.register(0, 0, 11), 1);
         CHECK.due("both", x.register(0, 0, 12), 2);
         CHECK.due("unset again", x.register(0, 0, 13), 0);
-        x = Check.house(1, 1, "la s0,0x10000000", "la s3,0xc001000", "li t0,1", "sb t0,1(s0)", "lw a0,0(s3)", "lw a1,0(s3)", "lb a2,0(s0)", "lw a3,0(s3)");
+        x = Check.house(1, 1, "la s0,0x10000000", "la s3,0xc001000", "li t0,1", "sb t0,1(s0)", "lw a0,0(s3)", "lw a1,0(s3)", "lb a2,0(s0)",
+                "lw a3,0(s3)");
         x.run(0, 7);
         CHECK.due("no key waits", x.register(0, 0, 10), 0);
         x.key(0, 0);
         x.run(0, 3);
         CHECK.due("a key, of 0 too", x.register(0, 0, 11), 2);
         CHECK.due("it stays pending", x.register(0, 0, 13), 2);
-        x = Check.house(1, 1, "la s0,0x10000000", "la s1,0xc000000", "la s2,0xc002000", "la s3,0xc200000", "la s4,0xc001000", "li t0,1", "sb t0,1(s0)", "sw t0,4(s1)", "li t0,2", "sw t0,0(s2)", "lw a0,4(s3)", "lw a1,0(s4)", "lw a2,4(s3)", "wfi");
+        x = Check.house(1, 1, "la s0,0x10000000", "la s1,0xc000000", "la s2,0xc002000", "la s3,0xc200000", "la s4,0xc001000", "li t0,1",
+                "sb t0,1(s0)", "sw t0,4(s1)", "li t0,2", "sw t0,0(s2)", "lw a0,4(s3)", "lw a1,0(s4)", "lw a2,4(s3)", "wfi");
         x.key(0, 9);
         x.run(0, 20);
         CHECK.due("source 1 is claimed", x.register(0, 0, 10), 1);
@@ -225,8 +238,10 @@ public final class DeviceEdgesTest {
 
     private static void deviceWires() {
         CHECK.about("term 6: WIRES 2 and 3");
-        RiscMonitor x = Check.house(1, 1, "la s0,0x10001000", "la s1,0x10002000", "la s2,0xc200000", "la s3,0xc001000", "li t0,1", "la s4,0xc000000", "sw t0,8(s4)", "sw t0,12(s4)", "li t0,12", "la s5,0xc002000", "sw t0,0(s5)",
-                "sw zero,16(s0)", "lw a0,0(s3)", "sw zero,24(s1)", "lw a1,0(s3)", "lw a2,4(s2)", "lw a3,4(s2)", "sw zero,20(s0)", "li t0,2", "sw t0,4(s2)", "lw a4,0(s3)", "li t0,3", "sw t0,4(s2)", "lw a5,0(s3)", "wfi");
+        RiscMonitor x = Check.house(1, 1, "la s0,0x10001000", "la s1,0x10002000", "la s2,0xc200000", "la s3,0xc001000", "li t0,1",
+                "la s4,0xc000000", "sw t0,8(s4)", "sw t0,12(s4)", "li t0,12", "la s5,0xc002000", "sw t0,0(s5)",
+                "sw zero,16(s0)", "lw a0,0(s3)", "sw zero,24(s1)", "lw a1,0(s3)", "lw a2,4(s2)", "lw a3,4(s2)", "sw zero,20(s0)",
+                        "li t0,2", "sw t0,4(s2)", "lw a4,0(s3)", "li t0,3", "sw t0,4(s2)", "lw a5,0(s3)", "wfi");
         x.run(0, 40);
         CHECK.due("the disk's", x.register(0, 0, 10), 4);
         CHECK.due("the copier's, too", x.register(0, 0, 11), 12);
@@ -238,7 +253,8 @@ public final class DeviceEdgesTest {
 
     /** The disk's answer to a command: its status, behind which RAM and the sector are looked at. */
     private static RiscMonitor disk(long sector, long place, long command) {
-        RiscMonitor x = Check.house(1, 2, "la s0,0x10001000", "la s1,d", "ld a0,0(s1)", "ld a1,8(s1)", "lw a2,16(s1)", "sd a0,0(s0)", "sd a1,8(s0)", "sw a2,16(s0)", "lw a3,20(s0)", "lw a4,16(s0)",
+        RiscMonitor x = Check.house(1, 2, "la s0,0x10001000", "la s1,d", "ld a0,0(s1)", "ld a1,8(s1)", "lw a2,16(s1)", "sd a0,0(s0)",
+                "sd a1,8(s0)", "sw a2,16(s0)", "lw a3,20(s0)", "lw a4,16(s0)",
                 "ld a5,0(s0)", "ld a6,8(s0)", "sw a3,20(s0)", "lw a7,20(s0)", "wfi", ".align 3",
                 "d: .dword 0x" + Long.toHexString(sector), ".dword 0x" + Long.toHexString(place), ".word " + command);
         for (long at : new long[] {0, 63, 64, PAGE - 1, PAGE, 2 * PAGE - 65, 2 * PAGE - 64, 2 * PAGE - 1}) {
@@ -270,7 +286,8 @@ public final class DeviceEdgesTest {
                 CHECK.due("the byte ahead", x.cell(0, row[1] - 1), row[1] == end - 64 ? 0x61 : 0);
             }
         }
-        long[][] bad = {{32, RAM, 1}, {-1, RAM, 1}, {1L << 32, RAM, 1}, {0, RAM - 1, 1}, {0, end - 63, 1}, {0, end, 1}, {0, 0, 1}, {0, -1, 1}, {0, Long.MIN_VALUE, 1}, {0, RAM + (1L << 32), 1},
+        long[][] bad = {{32, RAM, 1}, {-1, RAM, 1}, {1L << 32, RAM, 1}, {0, RAM - 1, 1}, {0, end - 63, 1}, {0, end, 1}, {0, 0, 1}, {0, -1,
+                1}, {0, Long.MIN_VALUE, 1}, {0, RAM + (1L << 32), 1},
             {0, RAM + PAGE, 0}, {0, RAM + PAGE, 3}, {0, RAM + PAGE, 0x80000001L}, {31, end - 63, 2}, {32, RAM, 2}};
         for (long[] row : bad) {
             RiscMonitor x = disk(row[0], row[1], row[2]);
@@ -282,9 +299,11 @@ public final class DeviceEdgesTest {
 
     /** The copier's answer: its status in a3; from page 1's beginning on there are bytes 1, 2, .. 8. */
     private static RiscMonitor copy(long from, long to, long count, long command) {
-        RiscMonitor x = Check.house(1, 3, "la s0,0x10002000", "la s1,d", "ld a0,0(s1)", "ld a1,8(s1)", "ld a2,16(s1)", "lw a3,24(s1)", "sd a0,0(s0)", "sd a1,8(s0)", "sd a2,16(s0)", "sw a3,24(s0)", "lw a3,28(s0)", "lw a4,24(s0)",
+        RiscMonitor x = Check.house(1, 3, "la s0,0x10002000", "la s1,d", "ld a0,0(s1)", "ld a1,8(s1)", "ld a2,16(s1)", "lw a3,24(s1)",
+                "sd a0,0(s0)", "sd a1,8(s0)", "sd a2,16(s0)", "sw a3,24(s0)", "lw a3,28(s0)", "lw a4,24(s0)",
                 "ld a5,0(s0)", "ld a6,8(s0)", "ld a7,16(s0)", "sw a3,28(s0)", "lw a2,28(s0)", "j 0x8000004c", ".align 3",
-                "d: .dword 0x" + Long.toHexString(from), ".dword 0x" + Long.toHexString(to), ".dword 0x" + Long.toHexString(count), ".word " + command);
+                "d: .dword 0x" + Long.toHexString(from), ".dword 0x" + Long.toHexString(to), ".dword 0x" + Long.toHexString(count),
+                        ".word " + command);
         for (int i = 0; i < 8; i++) {
             x.poke(0, RAM + PAGE + i, i + 1);
         }
@@ -302,17 +321,22 @@ public final class DeviceEdgesTest {
         CHECK.about("term 6: COPIER");
         long data = RAM + PAGE;
         long end = RAM + 3 * PAGE;
-        long[][] good = {{data, end - 8, 8, 1}, {data, end - 1, 1, 1}, {RAM, RAM + 2 * PAGE, 4096, 1}, {data, data, 4096, 1}, {RAM, RAM, 0, 1}, {end, end, 0, 1}, {end, RAM, 0, 1}, {RAM, end, 0, 1},
+        long[][] good = {{data, end - 8, 8, 1}, {data, end - 1, 1, 1}, {RAM, RAM + 2 * PAGE, 4096, 1}, {data, data, 4096, 1}, {RAM, RAM, 0,
+                1}, {end, end, 0, 1}, {end, RAM, 0, 1}, {RAM, end, 0, 1},
             {0, end - 4096, 4096, 2}, {-1, end - 1, 1, 2}, {0x1234, end, 0, 2}, {0, RAM, 0, 2}};
         for (long[] row : good) {
-            CHECK.due("status of " + Long.toHexString(row[0]) + ", " + Long.toHexString(row[1]) + ", " + row[2] + ", " + row[3], copy(row[0], row[1], row[2], row[3]).register(0, 0, 13), 1);
+            CHECK.due("status of " + Long.toHexString(row[0]) + ", " + Long.toHexString(row[1]) + ", " + row[2] + ", " + row[3],
+                    copy(row[0], row[1], row[2], row[3]).register(0, 0, 13), 1);
         }
-        long[][] bad = {{data, end - 7, 8, 1}, {end - 7, data, 8, 1}, {data, RAM - 1, 1, 1}, {RAM - 1, data, 1, 1}, {data, RAM, 4097, 1}, {0, RAM, 4097, 2}, {data, RAM, -1, 1}, {data, RAM, Long.MIN_VALUE, 1}, {data, RAM, -1, 2},
-            {end + 1, RAM, 0, 1}, {RAM, end + 1, 0, 1}, {RAM - 1, RAM, 0, 1}, {RAM, RAM - 1, 0, 1}, {0, end + 1, 0, 2}, {0, RAM - 1, 0, 2}, {data, RAM, 1, 0}, {data, RAM, 1, 3}, {data, RAM, 0, 0},
+        long[][] bad = {{data, end - 7, 8, 1}, {end - 7, data, 8, 1}, {data, RAM - 1, 1, 1}, {RAM - 1, data, 1, 1}, {data, RAM, 4097, 1},
+                {0, RAM, 4097, 2}, {data, RAM, -1, 1}, {data, RAM, Long.MIN_VALUE, 1}, {data, RAM, -1, 2},
+            {end + 1, RAM, 0, 1}, {RAM, end + 1, 0, 1}, {RAM - 1, RAM, 0, 1}, {RAM, RAM - 1, 0, 1}, {0, end + 1, 0, 2}, {0, RAM - 1, 0, 2},
+                    {data, RAM, 1, 0}, {data, RAM, 1, 3}, {data, RAM, 0, 0},
             {0, end - 4095, 4096, 2}, {0, end, 1, 2}, {data, Long.MAX_VALUE, 1, 1}, {-8, data, 8, 1}, {data, -8, 8, 1}};
         for (long[] row : bad) {
             RiscMonitor x = copy(row[0], row[1], row[2], row[3]);
-            CHECK.due("status of " + Long.toHexString(row[0]) + ", " + Long.toHexString(row[1]) + ", " + row[2] + ", " + row[3], x.register(0, 0, 13), 2);
+            CHECK.due("status of " + Long.toHexString(row[0]) + ", " + Long.toHexString(row[1]) + ", " + row[2] + ", " + row[3],
+                    x.register(0, 0, 13), 2);
             CHECK.due("nothing is done", x.changed(0, 0), 0);
         }
     }
@@ -349,7 +373,8 @@ public final class DeviceEdgesTest {
             CHECK.due("mcycle", x.control(0, 0, 0xb00), 0);
             CHECK.due("MTIME", x.control(0, 0, 0xc01), 4 + n);
         }
-        RiscMonitor x = Check.house(1, 1, "la s0,0x10003000", "li a0,5", "sd a0,0(s0)", "ld a1,0(s0)", "sd zero,0(s0)", "ld a2,0(s0)", "li a0,-1", "sd a0,0(s0)", "ld a3,0(s0)", "a: j a");
+        RiscMonitor x = Check.house(1, 1, "la s0,0x10003000", "li a0,5", "sd a0,0(s0)", "ld a1,0(s0)", "sd zero,0(s0)", "ld a2,0(s0)",
+                "li a0,-1", "sd a0,0(s0)", "ld a3,0(s0)", "a: j a");
         x.run(0, 100);
         CHECK.due("one less ahead of each step", x.register(0, 0, 11), 4);
         CHECK.due("0 is off", x.register(0, 0, 12), 0);

@@ -96,7 +96,8 @@ public final class DeviceTest {
 
     private static void controller() {
         CHECK.about("promise 18, the controller");
-        RiscMonitor x = controlled("lw a1,0(s1)", "lw a2,0(s3)", "sw zero,0(s3)", "lw a3,4(s2)", "lw a4,4(s2)", "lw a5,0(s3)", "lw a6,24(s0)", "lw a7,4(s2)", "lw t1,4(s2)");
+        RiscMonitor x = controlled("lw a1,0(s1)", "lw a2,0(s3)", "sw zero,0(s3)", "lw a3,4(s2)", "lw a4,4(s2)", "lw a5,0(s3)",
+                "lw a6,24(s0)", "lw a7,4(s2)", "lw t1,4(s2)");
         for (int s = 4; s <= 6; s++) {
             x.wire(0, s, true);
             x.wire(0, s, false);
@@ -117,7 +118,8 @@ public final class DeviceTest {
         CHECK.due("a priority must be above it", x.register(0, 0, 12), 0);
         CHECK.due("above it", x.register(0, 0, 13), 4);
         CHECK.due("MEIP: nothing is left", x.control(0, 0, 0x344), 0);
-        x = controlled("lw a1,4(s2)", "lw a2,0(s3)", "li a0,4", "sw a0,4(s2)", "lw a3,0(s3)", "lw a4,4(s2)", "sw zero,0(s1)", "sw a0,4(s2)", "lw a5,0(s3)");
+        x = controlled("lw a1,4(s2)", "lw a2,0(s3)", "li a0,4", "sw a0,4(s2)", "lw a3,0(s3)", "lw a4,4(s2)", "sw zero,0(s1)",
+                "sw a0,4(s2)", "lw a5,0(s3)");
         x.wire(0, 4, true);
         CHECK.due("MEIP not yet", x.control(0, 0, 0x344), 0);
         x.run(0, 40);
@@ -175,8 +177,10 @@ public final class DeviceTest {
 
     private static void sectors() {
         CHECK.about("promise 20");
-        RiscMonitor x = Check.house(1, 2, "li s0,0x10001000", "li a0,31", "sd a0,0(s0)", "la a1,0x80000fc1", "sd a1,8(s0)", "li a2,2", "sw a2,16(s0)", "lw a3,20(s0)",
-                "la a1,0x80001fc0", "sd a1,8(s0)", "li a2,1", "sw a2,16(s0)", "sw a2,20(s0)", "lw a4,20(s0)", "addi a1,a1,1", "sd a1,8(s0)", "sw a2,16(s0)", "lw a5,20(s0)",
+        RiscMonitor x = Check.house(1, 2, "li s0,0x10001000", "li a0,31", "sd a0,0(s0)", "la a1,0x80000fc1", "sd a1,8(s0)", "li a2,2",
+                "sw a2,16(s0)", "lw a3,20(s0)",
+                "la a1,0x80001fc0", "sd a1,8(s0)", "li a2,1", "sw a2,16(s0)", "sw a2,20(s0)", "lw a4,20(s0)", "addi a1,a1,1",
+                        "sd a1,8(s0)", "sw a2,16(s0)", "lw a5,20(s0)",
                 "lw a6,16(s0)", "ld a7,0(s0)", "wfi");
         for (int i = 0; i < 64; i++) {
             x.poke(0, RAM + 0xfc1 + i, 100 + i);
@@ -200,14 +204,16 @@ public final class DeviceTest {
         CHECK.due("sectors stay", x.sector(0, 31, 0), 100);
         long[][] bad = {{32, 1}, {-1, 1}, {0, 3}, {0, 0}};
         for (long[] row : bad) {
-            x = Check.ran(12, "li s0,0x10001000", "li a0," + row[0], "sd a0,0(s0)", "la a1,0x80001000", "sd a1,8(s0)", "li a2," + row[1], "sw a2,16(s0)", "lw a3,20(s0)", "wfi");
+            x = Check.ran(12, "li s0,0x10001000", "li a0," + row[0], "sd a0,0(s0)", "la a1,0x80001000", "sd a1,8(s0)", "li a2," + row[1],
+                    "sw a2,16(s0)", "lw a3,20(s0)", "wfi");
             CHECK.due("sector " + row[0] + ", command " + row[1], x.register(0, 0, 13), 2);
         }
     }
 
     /** The copier's status of from, to, count and a command. */
     private static RiscMonitor copied(long from, long to, long count, int command) {
-        RiscMonitor x = Check.house(1, 2, "li s0,0x10002000", "la s1,d", "ld a0,0(s1)", "ld a1,8(s1)", "ld a2,16(s1)", "sd a0,0(s0)", "sd a1,8(s0)", "sd a2,16(s0)",
+        RiscMonitor x = Check.house(1, 2, "li s0,0x10002000", "la s1,d", "ld a0,0(s1)", "ld a1,8(s1)", "ld a2,16(s1)", "sd a0,0(s0)",
+                "sd a1,8(s0)", "sd a2,16(s0)",
                 "li a3," + command, "sw a3,24(s0)", "lw a4,28(s0)", "lw a5,24(s0)", "sw a4,28(s0)", "lw a6,28(s0)", "wfi",
                 ".align 3", "d: .dword 0x" + Long.toHexString(from), ".dword 0x" + Long.toHexString(to), ".dword 0x" + Long.toHexString(count),
                 ".byte 11,12,13,14,15");
@@ -288,7 +294,8 @@ public final class DeviceTest {
     private static void registers() {
         CHECK.about("promise 7, places of registers");
         long[][] none = {{0xc000000L, 4}, {0xc000020L, 4}, {0xc002100L, 4}, {0xc202000L, 4}, {0xc200008L, 4}, {0x2000004L, 4}, {0x2004008L, 8},
-            {0x10000002L, 1}, {0x10001018L, 8}, {0x10002020L, 8}, {0x10003008L, 8}, {0x10004008L, 8}, {0x100004L, 4}, {0x2004000L, 4}, {0x10001000L, 4}};
+            {0x10000002L, 1}, {0x10001018L, 8}, {0x10002020L, 8}, {0x10003008L, 8}, {0x10004008L, 8}, {0x100004L, 4}, {0x2004000L, 4},
+                    {0x10001000L, 4}};
         for (long[] row : none) {
             RiscMonitor x = Check.ran(3, "li s0," + row[0], (row[1] == 8 ? "ld" : row[1] == 4 ? "lw" : "lb") + " a0,0(s0)");
             CHECK.due("no register of " + row[1] + " at " + Long.toHexString(row[0]), x.control(0, 0, 0x342), 5);

@@ -9,6 +9,7 @@ public final class HouseTest {
         computers();
         drops();
         usedSeats();
+        lastCall();
         states();
         counts();
         CHECK.end();
@@ -95,12 +96,18 @@ public final class HouseTest {
     /** A seat that was used is as a new one. */
     private static void usedSeats() {
         CHECK.about("promise 3: a new computer in a seat that was used");
-        RiscMonitor x = Check.house(2, 2, "la s0,0x10000000", "sb s0,0(s0)", "sb s0,1(s0)", "la s1,0x10001000", "la s2,0x80001000", "sd s2,8(s1)", "sd s2,0(s2)", "li a0,2", "sw a0,16(s1)", "lr.d a1,(s2)", "la s3,0x10003000", "sd s2,0(s3)", "ecall");
+        RiscMonitor x = Check.house(2, 2, "la s0,0x10000000", "li a0,7", "sb a0,0(s0)", "sb a0,1(s0)", "la s1,0x10001000",
+                "la s2,0x80001000", "sd s2,8(s1)", "sd s2,0(s2)", "li a0,2", "sw a0,16(s1)", "lr.d a1,(s2)", "la s3,0x10003000",
+                "sd s2,0(s3)", "ecall");
         x.key(0, 5);
         x.wire(0, 4, true);
         x.record(0, true);
         x.mark(0, 0, RAM + 0x800);
         x.run(0, 60);
+        x.poke(0, RAM + 0x900, 1);
+        x.run(0, 1);
+        x.reset(0);
+        x.run(0, 2);
         CHECK.due("it has blocks, traps and a trace", x.block(0, 0) > 0 && x.state(0, 7) > 0 && x.trace(0, 31, 0) >= 0 ? 1 : 0, 1);
         x.drop(0);
         x.computer(2, 2);
@@ -112,6 +119,7 @@ public final class HouseTest {
         for (int what = 0; what < 8; what++) {
             CHECK.due("block " + what, x.block(0, what), x.block(1, what));
         }
+        CHECK.due("nothing is DROPPED", x.block(0, 3), 0);
         CHECK.due("no trace", x.trace(0, 0, 0), -1);
         CHECK.due("no output", x.serial(0, 0), -1);
         CHECK.due("sectors are 0", x.sector(0, 0, 0), 0);
@@ -123,6 +131,17 @@ public final class HouseTest {
         for (int i = 0; i < 4; i++) {
             CHECK.due("its trace", x.trace(0, i, 0), i < 3 ? i % 2 : -1);
         }
+    }
+
+    private static void lastCall() {
+        CHECK.about("an object is used for at most 512 calls");
+        RiscMonitor x = new RiscMonitor();
+        x.computer(1, 1);
+        for (int i = 2; i <= 510; i++) {
+            x.poke(0, RAM + i, i);
+        }
+        CHECK.due("the 511th", x.cell(0, RAM + 300), 300 & 255);
+        CHECK.due("the 512th", x.cell(0, RAM + 510), 510 & 255);
     }
 
     private static void states() {

@@ -70,7 +70,8 @@ public final class MoveEdgesTest {
 
     private static void dueAgain() {
         CHECK.about("term 11: a page that is stored into, once sent, is due again");
-        String[] stores = {"sb a0,0(s0)", "sh a0,0(s0)", "sw a0,0(s0)", "sd a0,0(s0)", "amoadd.w a0,a0,(s0)", "amoswap.d a0,a0,(s0)", "sc.w a1,a0,(s0)"};
+        String[] stores = {"sb a0,0(s0)", "sh a0,0(s0)", "sw a0,0(s0)", "sd a0,0(s0)", "amoadd.w a0,a0,(s0)", "amoswap.d a0,a0,(s0)",
+                "sc.w a1,a0,(s0)"};
         for (String line : stores) {
             RiscMonitor x = house(3, "la s0,0x80001008", "lr.w a0,(s0)", line, "j 0x80000010");
             x.move(0);
@@ -115,7 +116,8 @@ public final class MoveEdgesTest {
         String[][] rows = {{"0x10001000", "1", "16", "0x80000fc1"}, {"0x10001000", "2", "16", "0x80000fc1"}, {"0x10002000", "2", "24", "0x80000fff"}};
         int[] due = {2, 0, 2};
         for (int i = 0; i < rows.length; i++) {
-            RiscMonitor x = house(3, "la s0," + rows[i][0], "la a0," + rows[i][3], "sd a0,8(s0)", "li a1,2", i == 2 ? "sd a1,16(s0)" : "nop", "li a2," + rows[i][1], "sw a2," + rows[i][2] + "(s0)", "j 0x80000024");
+            RiscMonitor x = house(3, "la s0," + rows[i][0], "la a0," + rows[i][3], "sd a0,8(s0)", "li a1,2",
+                    i == 2 ? "sd a1,16(s0)" : "nop", "li a2," + rows[i][1], "sw a2," + rows[i][2] + "(s0)", "j 0x80000024");
             x.move(0);
             x.round(1, 16);
             x.run(0, 20);
@@ -201,7 +203,8 @@ public final class MoveEdgesTest {
 
     private static void comesOver() {
         CHECK.about("term 11: FINISHED");
-        RiscMonitor x = Check.house(2, 2, "la s0,0x10000000", "la s1,0x80001040", "sb s1,0(s0)", "lr.d a0,(s1)", "csrw 0x340,s1", "la s2,0x10001000", "sd s1,8(s2)", "li a1,2", "sw a1,16(s2)", "la s3,0x10004000", "ld a2,0(s3)", "wfi");
+        RiscMonitor x = Check.house(2, 2, "la s0,0x10000000", "la s1,0x80001040", "sb s1,0(s0)", "lr.d a0,(s1)", "csrw 0x340,s1",
+                "la s2,0x10001000", "sd s1,8(s2)", "li a1,2", "sw a1,16(s2)", "la s3,0x10004000", "ld a2,0(s3)", "wfi");
         x.key(0, 9);
         x.wire(0, 5, true);
         x.move(0);

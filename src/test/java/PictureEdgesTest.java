@@ -3,9 +3,12 @@ public final class PictureEdgesTest {
     private static final Check CHECK = new Check();
     private static final long RAM = Check.RAM;
     /** A loop that changes each device, RAM, sectors, output, control registers and RESERVATIONS as it goes. */
-    private static final String[] BUSY = {"la s0,0x10000000", "la s1,0x10001000", "la s2,0x10002000", "la s3,0xc200000", "la s4,0x2000000", "la s5,0x10004000", "la s6,0x80001000", "la s7,0x10003000",
-        "l: lbu a0,0(s0)", "sb a0,0(s0)", "sb a4,1(s0)", "ld a1,0(s5)", "sd a1,0(s6)", "andi a2,a1,31", "sd a2,0(s1)", "sd s6,8(s1)", "li a3,2", "sw a3,16(s1)", "sd a1,0(s2)", "sd s6,8(s2)", "sd a2,16(s2)", "sw a3,24(s2)",
-        "sw a4,0(s4)", "lw a5,4(s3)", "sw a5,4(s3)", "sw a2,0(s3)", "sd a2,8(s7)", "csrw 0x340,a1", "csrw 0x306,a1", "lr.d a6,(s6)", "addi a4,a4,1", "j l"};
+    private static final String[] BUSY = {"la s0,0x10000000", "la s1,0x10001000", "la s2,0x10002000", "la s3,0xc200000", "la s4,0x2000000",
+            "la s5,0x10004000", "la s6,0x80001000", "la s7,0x10003000",
+        "l: lbu a0,0(s0)", "sb a0,0(s0)", "sb a4,1(s0)", "ld a1,0(s5)", "sd a1,0(s6)", "andi a2,a1,31", "sd a2,0(s1)", "sd s6,8(s1)",
+                "li a3,2", "sw a3,16(s1)", "sd a1,0(s2)", "sd s6,8(s2)", "sd a2,16(s2)", "sw a3,24(s2)",
+        "sw a4,0(s4)", "lw a5,4(s3)", "sw a5,4(s3)", "sw a2,0(s3)", "sd a2,8(s7)", "csrw 0x340,a1", "csrw 0x306,a1", "lr.d a6,(s6)",
+                "addi a4,a4,1", "j l"};
 
     public static void main(String[] args) {
         numbers();
@@ -177,7 +180,8 @@ public final class PictureEdgesTest {
         RiscMonitor x = new RiscMonitor();
         for (int m = 0; m < 3; m++) {
             x.computer(1, 1);
-            Check.make(x, m, RAM, "la s0,0x10000000", "la s1,0x100000", "lbu a0,0(s0)", "li a1,0x3333", "slli a0,a0,16", "add a1,a1,a0", "li a0,0", "sw a1,0(s1)", "nop");
+            Check.make(x, m, RAM, "la s0,0x10000000", "la s1,0x100000", "lbu a0,0(s0)", "li a1,0x3333", "slli a0,a0,16", "add a1,a1,a0",
+                    "li a0,0", "sw a1,0(s1)", "nop");
             x.key(m, m == 2 ? 1 : 7);
             x.run(m, 10);
         }

@@ -3,7 +3,8 @@ public final class RecordEdgesTest {
     private static final Check CHECK = new Check();
     private static final long RAM = Check.RAM;
     /** Adds keys, MTIME, a byte of RAM and the pending sources to a1. */
-    private static final String[] LISTENS = {"la s0,0x10000000", "la s1,0xc001000", "la s2,0x80001000", "l: lbu a0,0(s0)", "add a1,a1,a0", "csrr a0,0xc01", "add a1,a1,a0", "lw a0,0(s1)", "add a1,a1,a0", "lbu a0,0(s2)", "add a1,a1,a0",
+    private static final String[] LISTENS = {"la s0,0x10000000", "la s1,0xc001000", "la s2,0x80001000", "l: lbu a0,0(s0)", "add a1,a1,a0",
+            "csrr a0,0xc01", "add a1,a1,a0", "lw a0,0(s1)", "add a1,a1,a0", "lbu a0,0(s2)", "add a1,a1,a0",
         "sb a1,0(s0)", "j l"};
 
     public static void main(String[] args) {

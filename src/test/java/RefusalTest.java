@@ -43,11 +43,16 @@ public final class RefusalTest {
         for (int m : new int[] {-1, 2, 3, 4, LEAST, MOST}) {
             RiscMonitor x = house();
             String before = Check.sight(x);
-            long[] answers = {x.drop(m), x.assemble(m, RAM), x.assemble(m, 0), x.list(m, RAM, 0), x.list(m, 0, -1), x.run(m, 1), x.run(m, 0), x.reset(m), x.state(m, 0), x.state(m, 99),
-                x.hart(m, 0, 0), x.hart(m, 9, 9), x.cell(m, RAM), x.cell(m, 0), x.poke(m, RAM, 1), x.poke(m, 0, 1), x.walk(m, 0, RAM, 0), x.walk(m, 0, RAM, 9), x.key(m, 1), x.key(m, 999),
-                x.serial(m, 0), x.serial(m, -1), x.wire(m, 4, true), x.wire(m, 9, true), x.time(m, 1), x.sector(m, 0, 0), x.sector(m, -1, 0), x.block(m, 0), x.block(m, -1), x.picture(m), x.restore(m, 0),
-                x.changed(m, 0), x.record(m, true), x.record(m, false), x.back(m, 0), x.back(m, -1), x.replay(m), x.alike(m, 0), x.alike(0, m), x.alike(m, m), x.move(m), x.round(m, 1), x.round(m, 0),
-                x.lose(m, 1), x.lose(m, 0), x.finish(m, true), x.finish(m, false), x.mark(m, 0, 0), x.mark(m, 9, 0), x.unmark(m, 0), x.go(m), x.trace(m, 0, 0), x.trace(m, -1, 9)};
+            long[] answers = {x.drop(m), x.assemble(m, RAM), x.assemble(m, 0), x.list(m, RAM, 0), x.list(m, 0, -1), x.run(m, 1), x.run(m,
+                    0), x.reset(m), x.state(m, 0), x.state(m, 99),
+                x.hart(m, 0, 0), x.hart(m, 9, 9), x.cell(m, RAM), x.cell(m, 0), x.poke(m, RAM, 1), x.poke(m, 0, 1), x.walk(m, 0, RAM, 0),
+                        x.walk(m, 0, RAM, 9), x.key(m, 1), x.key(m, 999),
+                x.serial(m, 0), x.serial(m, -1), x.wire(m, 4, true), x.wire(m, 9, true), x.time(m, 1), x.sector(m, 0, 0), x.sector(m, -1,
+                        0), x.block(m, 0), x.block(m, -1), x.picture(m), x.restore(m, 0),
+                x.changed(m, 0), x.record(m, true), x.record(m, false), x.back(m, 0), x.back(m, -1), x.replay(m), x.alike(m, 0), x.alike(0,
+                        m), x.alike(m, m), x.move(m), x.round(m, 1), x.round(m, 0),
+                x.lose(m, 1), x.lose(m, 0), x.finish(m, true), x.finish(m, false), x.mark(m, 0, 0), x.mark(m, 9, 0), x.unmark(m, 0),
+                        x.go(m), x.trace(m, 0, 0), x.trace(m, -1, 9)};
             for (int i = 0; i < answers.length; i++) {
                 CHECK.due("call " + i + " of computer " + m, answers[i], -2);
             }

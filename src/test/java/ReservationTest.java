@@ -26,7 +26,8 @@ public final class ReservationTest {
         for (int bits = 0; bits < 4; bits++) {
             int size = 1 << bits;
             for (int at = 0; at < 24; at += size) {
-                RiscMonitor x = Check.house(1, 2, "la s0," + DATA, "la s1,d", "ld a0,0(s1)", names[bits] + " a0," + at + "(s0)", "j 0x80000018", ".align 3", "d: .dword 0x0123456789abcdef");
+                RiscMonitor x = Check.house(1, 2, "la s0," + DATA, "la s1,d", "ld a0,0(s1)", names[bits] + " a0," + at + "(s0)",
+                        "j 0x80000018", ".align 3", "d: .dword 0x0123456789abcdef");
                 Check.make(x, 0, DATA, ".dword -1,-1,-1");
                 x.run(0, 6);
                 for (int i = 0; i < 24; i++) {
@@ -67,7 +68,8 @@ public final class ReservationTest {
 
     /** Hart 0 has reserved at a place; hart 1's next step is a line. */
     private static RiscMonitor pair(long place, String line) {
-        RiscMonitor x = Check.house(2, 3, "csrr t0,0xf14", "la s0," + DATA, "la s1," + place, "bnez t0,b", "lr.d a0,(s1)", "nop", "wfi", "b: nop", line, "nop", "wfi");
+        RiscMonitor x = Check.house(2, 3, "csrr t0,0xf14", "la s0," + DATA, "la s1," + place, "bnez t0,b", "lr.d a0,(s1)", "nop", "wfi",
+                "b: nop", line, "nop", "wfi");
         x.run(0, 14);
         CHECK.due("reserved", x.hart(0, 0, 3), place & -64);
         return x;
@@ -162,10 +164,12 @@ public final class ReservationTest {
     private static void byDevices() {
         CHECK.about("term 2: a device");
         for (int at : new int[] {0, 1, 63, 64, 127, 128}) {
-            RiscMonitor x = Check.house(1, 3, "la s0,0x10001000", "la a1," + (DATA + at), "sd a1,8(s0)", "li a2,1", "la s1," + (DATA + 64), "lr.w a0,(s1)", "sw a2,16(s0)", "wfi");
+            RiscMonitor x = Check.house(1, 3, "la s0,0x10001000", "la a1," + (DATA + at), "sd a1,8(s0)", "li a2,1", "la s1," + (DATA + 64),
+                    "lr.w a0,(s1)", "sw a2,16(s0)", "wfi");
             x.run(0, 10);
             CHECK.due("the disk, from " + at, x.hart(0, 0, 3), at > 0 && at < 128 ? -1 : DATA + 64);
-            x = Check.house(1, 3, "la s0,0x10002000", "la a1," + (DATA + at), "sd a1,8(s0)", "li a2,2", "la s1," + (DATA + 64), "lr.w a0,(s1)", "sd a2,16(s0)", "sw a2,24(s0)", "wfi");
+            x = Check.house(1, 3, "la s0,0x10002000", "la a1," + (DATA + at), "sd a1,8(s0)", "li a2,2", "la s1," + (DATA + 64),
+                    "lr.w a0,(s1)", "sd a2,16(s0)", "sw a2,24(s0)", "wfi");
             x.run(0, 11);
             CHECK.due("the copier, from " + at, x.hart(0, 0, 3), at >= 63 && at < 128 ? -1 : DATA + 64);
         }

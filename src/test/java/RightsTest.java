@@ -2,9 +2,12 @@
 public final class RightsTest {
     private static final Check CHECK = new Check();
     private static final int[] NUMBERS = {
-        0x300, 0x301, 0x302, 0x303, 0x304, 0x305, 0x306, 0x320, 0x340, 0x341, 0x342, 0x343, 0x344, 0x34a, 0x34b, 0x3a0, 0x3b0, 0x3b1, 0x3b2, 0x3b3, 0x3b4,
-        0x3b5, 0x3b6, 0x3b7, 0xb00, 0xb02, 0xc00, 0xc01, 0xc02, 0xf11, 0xf12, 0xf13, 0xf14, 0xf15, 0x100, 0x104, 0x105, 0x106, 0x140, 0x141, 0x142, 0x143,
-        0x144, 0x180, 0x600, 0x602, 0x603, 0x604, 0x605, 0x606, 0x607, 0x643, 0x644, 0x645, 0x64a, 0x680, 0xe12, 0x200, 0x204, 0x205, 0x240, 0x241, 0x242,
+        0x300, 0x301, 0x302, 0x303, 0x304, 0x305, 0x306, 0x320, 0x340, 0x341, 0x342, 0x343, 0x344, 0x34a, 0x34b, 0x3a0, 0x3b0, 0x3b1,
+                0x3b2, 0x3b3, 0x3b4,
+        0x3b5, 0x3b6, 0x3b7, 0xb00, 0xb02, 0xc00, 0xc01, 0xc02, 0xf11, 0xf12, 0xf13, 0xf14, 0xf15, 0x100, 0x104, 0x105, 0x106, 0x140,
+                0x141, 0x142, 0x143,
+        0x144, 0x180, 0x600, 0x602, 0x603, 0x604, 0x605, 0x606, 0x607, 0x643, 0x644, 0x645, 0x64a, 0x680, 0xe12, 0x200, 0x204, 0x205,
+                0x240, 0x241, 0x242,
         0x243, 0x244, 0x280};
     private static final int[] MODES = {0, 1, 3, 4, 5};
     private static final long TVM = 1 << 20;
@@ -62,14 +65,21 @@ public final class RightsTest {
     private static void writtenBits() {
         CHECK.about("term 4: whose other bits stay 0");
         long all = -1L;
-        long[][] rows = {{0x300, 0xc0007e19aaL, 0xa00000000L}, {0x301, 0, 0x8000000000141187L}, {0x302, 0xf0b7ff, 0}, {0x303, 0x222, 0x444}, {0x304, 0xeee, 0},
-            {0x305, ~2L, 0}, {0x306, 7, 0}, {0x320, 5, 0}, {0x340, all, 0}, {0x341, ~1L, 0}, {0x342, all, 0}, {0x343, all, 0}, {0x344, 0x226, 0}, {0x34a, all, 0},
-            {0x34b, all, 0}, {0x3b0, (1L << 54) - 1, 0}, {0x3b7, (1L << 54) - 1, 0}, {0xb00, all, 0}, {0xb02, all, 0}, {0x100, 0xc0122, 0x200000000L}, {0x104, 0, 0},
-            {0x105, ~2L, 0}, {0x106, 7, 0}, {0x140, all, 0}, {0x141, ~1L, 0}, {0x142, all, 0}, {0x143, all, 0}, {0x144, 0, 0}, {0x600, 0x7003c0, 0x200000000L},
-            {0x602, 0xb1ff, 0}, {0x603, 0x444, 0}, {0x604, 0x444, 0}, {0x605, all, 0}, {0x606, 7, 0}, {0x607, 0, 0}, {0x643, all, 0}, {0x644, 4, 0}, {0x645, 0x444, 0},
-            {0x64a, all, 0}, {0x200, 0xc0122, 0x200000000L}, {0x204, 0, 0}, {0x205, ~2L, 0}, {0x240, all, 0}, {0x241, ~1L, 0}, {0x242, all, 0}, {0x243, all, 0}, {0x244, 0, 0}};
+        long[][] rows = {{0x300, 0xc0007e19aaL, 0xa00000000L}, {0x301, 0, 0x8000000000141187L}, {0x302, 0xf0b7ff, 0}, {0x303, 0x222,
+                0x444}, {0x304, 0xeee, 0},
+            {0x305, ~2L, 0}, {0x306, 7, 0}, {0x320, 5, 0}, {0x340, all, 0}, {0x341, ~1L, 0}, {0x342, all, 0}, {0x343, all, 0}, {0x344,
+                    0x226, 0}, {0x34a, all, 0},
+            {0x34b, all, 0}, {0x3b0, (1L << 54) - 1, 0}, {0x3b7, (1L << 54) - 1, 0}, {0xb00, all, 0}, {0xb02, all, 0}, {0x100, 0xc0122,
+                    0x200000000L}, {0x104, 0, 0},
+            {0x105, ~2L, 0}, {0x106, 7, 0}, {0x140, all, 0}, {0x141, ~1L, 0}, {0x142, all, 0}, {0x143, all, 0}, {0x144, 0, 0}, {0x600,
+                    0x7003c0, 0x200000000L},
+            {0x602, 0xb1ff, 0}, {0x603, 0x444, 0}, {0x604, 0x444, 0}, {0x605, all, 0}, {0x606, 7, 0}, {0x607, 0, 0}, {0x643, all, 0},
+                    {0x644, 4, 0}, {0x645, 0x444, 0},
+            {0x64a, all, 0}, {0x200, 0xc0122, 0x200000000L}, {0x204, 0, 0}, {0x205, ~2L, 0}, {0x240, all, 0}, {0x241, ~1L, 0}, {0x242, all,
+                    0}, {0x243, all, 0}, {0x244, 0, 0}};
         for (long[] row : rows) {
-            RiscMonitor x = Stage.in(3, false, "li a0,-1\ncsrrw a1," + row[0] + ",a0\ncsrrc a2," + row[0] + ",a0\ncsrrs a3," + row[0] + ",a0\ncsrrw a4," + row[0] + ",zero",
+            RiscMonitor x = Stage.in(3, false,
+                    "li a0,-1\ncsrrw a1," + row[0] + ",a0\ncsrrc a2," + row[0] + ",a0\ncsrrs a3," + row[0] + ",a0\ncsrrw a4," + row[0] + ",zero",
                     0x305, 0, 0x105, 0, 0x205, 0, 0x341, 0);
             String name = Long.toHexString(row[0]);
             x.run(0, 2);
@@ -78,12 +88,12 @@ public final class RightsTest {
             CHECK.due(name + ": all bits cleared", x.control(0, 0, (int) row[0]), row[2]);
             x.run(0, 1);
             CHECK.due(name + ": all bits set", x.control(0, 0, (int) row[0]), row[1] | row[2]);
-            x.run(0, 1);
-            CHECK.due(name + ": what it was", x.register(0, 0, 14), row[1] | row[2]);
-            CHECK.due(name + ": 0 written", x.control(0, 0, (int) row[0]), row[2]);
             for (int r = 15; r < 32; r++) {
                 CHECK.due(name + ": no other register is written, x" + r, x.register(0, 0, r), 0);
             }
+            x.run(0, 1);
+            CHECK.due(name + ": what it was", x.register(0, 0, 14), row[1] | row[2]);
+            CHECK.due(name + ": 0 written", x.control(0, 0, (int) row[0]), row[2]);
         }
     }
 
@@ -163,7 +173,8 @@ public final class RightsTest {
             RiscMonitor x = Stage.in(3, false, "nop", 0x3a0, 0x1b1b1b1b1b1b1b1bL, 0x3a0, 0x1f1f1f1f1f1f1f1fL & ~(255L << shift) | 0x1aL << shift);
             CHECK.due("W without R: that byte stays, " + entry, x.control(0, 0, 0x3a0), 0x1f1f1f1f1f1f1f1fL & ~(255L << shift) | 0x1bL << shift);
             x = Stage.in(3, false, "nop", 0x3a0, 0x98L << shift, 0x3a0, 0x1b1b1b1b1b1b1b1bL);
-            CHECK.due("a byte with L isn't written any more, " + entry, x.control(0, 0, 0x3a0), 0x1b1b1b1b1b1b1b1bL & ~(255L << shift) | 0x98L << shift);
+            CHECK.due("a byte with L isn't written any more, " + entry, x.control(0, 0, 0x3a0),
+                    0x1b1b1b1b1b1b1b1bL & ~(255L << shift) | 0x98L << shift);
             for (long a = 0; a < 4; a++) {
                 locked(entry, a);
             }
@@ -211,7 +222,8 @@ public final class RightsTest {
 
     private static void everyMode() {
         CHECK.about("term 4: who may");
-        int[] others = {0x000, 0x001, 0x101, 0x107, 0x145, 0x17f, 0x181, 0x201, 0x206, 0x245, 0x281, 0x2ff, 0x601, 0x608, 0x646, 0x681, 0x6ff, 0x307, 0x3b8, 0xc03, 0xe11, 0xf10, 0xf16, 0xfff};
+        int[] others = {0x000, 0x001, 0x101, 0x107, 0x145, 0x17f, 0x181, 0x201, 0x206, 0x245, 0x281, 0x2ff, 0x601, 0x608, 0x646, 0x681,
+                0x6ff, 0x307, 0x3b8, 0xc03, 0xe11, 0xf10, 0xf16, 0xfff};
         int[] all = new int[NUMBERS.length + others.length];
         System.arraycopy(NUMBERS, 0, all, 0, NUMBERS.length);
         System.arraycopy(others, 0, all, NUMBERS.length, others.length);
@@ -221,7 +233,8 @@ public final class RightsTest {
                 CHECK.due("read " + where, Stage.cause(Stage.ran(1, mode & 3, mode >= 4, "csrr a0," + number)), due(number, false, mode));
                 // In M a write may change where a trap goes; what is read alone is enough there.
                 if (mode != 3 || due(number, true, mode) != 0) {
-                    CHECK.due("write " + where, Stage.cause(Stage.ran(1, mode & 3, mode >= 4, "csrrs zero," + number + ",sp")), due(number, true, mode));
+                    CHECK.due("write " + where, Stage.cause(Stage.ran(1, mode & 3, mode >= 4, "csrrs zero," + number + ",sp")), due(number,
+                            true, mode));
                 }
             }
         }
@@ -302,9 +315,11 @@ public final class RightsTest {
     /** Each register keeps what was written to it, whatever is written to the others. */
     private static void distinct() {
         CHECK.about("term 4: no register is another");
-        int[] numbers = {0x302, 0x304, 0x305, 0x306, 0x320, 0x340, 0x341, 0x342, 0x343, 0x344, 0x34a, 0x34b, 0x3b0, 0x3b1, 0x3b2, 0x3b3, 0x3b4, 0x3b5, 0x3b6, 0x3b7, 0x105, 0x106, 0x140, 0x141, 0x142, 0x143, 0x180,
+        int[] numbers = {0x302, 0x304, 0x305, 0x306, 0x320, 0x340, 0x341, 0x342, 0x343, 0x344, 0x34a, 0x34b, 0x3b0, 0x3b1, 0x3b2, 0x3b3,
+                0x3b4, 0x3b5, 0x3b6, 0x3b7, 0x105, 0x106, 0x140, 0x141, 0x142, 0x143, 0x180,
             0x600, 0x602, 0x603, 0x605, 0x606, 0x643, 0x64a, 0x680, 0x200, 0x205, 0x240, 0x241, 0x242, 0x243, 0x280};
-        long[] masks = {0xf0b7ff, 0xeee, ~2L, 7, 5, -1, ~1L, -1, -1, 0x222, -1, -1, -1, -1, -1, -1, -1, -1, -1, -1, ~2L, 7, -1, ~1L, -1, -1, -1, 0x7003c0, 0xb1ff, 0x444, -1, 7, -1, -1, ~3L, 0xc0122, ~2L, -1, ~1L, -1, -1, -1};
+        long[] masks = {0xf0b7ff, 0xeee, ~2L, 7, 5, -1, ~1L, -1, -1, 0x222, -1, -1, -1, -1, -1, -1, -1, -1, -1, -1, ~2L, 7, -1, ~1L, -1,
+                -1, -1, 0x7003c0, 0xb1ff, 0x444, -1, 7, -1, -1, ~3L, 0xc0122, ~2L, -1, ~1L, -1, -1, -1};
         for (int round = 0; round < 2; round++) {
             StringBuilder text = new StringBuilder();
             for (int k = 0; k < numbers.length; k++) {
@@ -328,10 +343,12 @@ public final class RightsTest {
     /** The controller's SEIP is not what csrrs and csrrc find in mip. */
     private static void ownPartOfPending() {
         CHECK.about("term 4: by sets and clears from that part alone");
-        String[] lines = {"csrrsi a0,0x344,2", "csrrci a0,0x344,2", "csrrs a0,0x344,zero", "csrrs a0,0x344,s3", "csrrc a0,0x344,s3", "csrrw a0,0x344,s3", "csrrw a0,0x344,zero"};
+        String[] lines = {"csrrsi a0,0x344,2", "csrrci a0,0x344,2", "csrrs a0,0x344,zero", "csrrs a0,0x344,s3", "csrrc a0,0x344,s3",
+                "csrrw a0,0x344,s3", "csrrw a0,0x344,zero"};
         long[] own = {2, 0, 0, 0x200, 0, 0x200, 0};
         for (int i = 0; i < lines.length; i++) {
-            RiscMonitor x = Check.house(1, 1, "la s0,0xc000010", "la s1,0xc002080", "li s2,16", "li s3,512", "sw s2,4(s0)", "li t0,7", "sw t0,0(s0)", "sw s2,0(s1)", lines[i], "sw zero,0(s1)", "wfi");
+            RiscMonitor x = Check.house(1, 1, "la s0,0xc000010", "la s1,0xc002080", "li s2,16", "li s3,512", "sw s2,4(s0)", "li t0,7",
+                    "sw t0,0(s0)", "sw s2,0(s1)", lines[i], "sw zero,0(s1)", "wfi");
             x.wire(0, 4, true);
             x.run(0, 11);
             CHECK.due(lines[i] + ": what it was", x.register(0, 0, 10), 512);

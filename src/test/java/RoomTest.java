@@ -19,7 +19,8 @@ public final class RoomTest {
     private static void dear(RiscMonitor x) {
         for (int m = 0; m < 3; m++) {
             x.computer(4, 16);
-            Check.make(x, m, Check.RAM, "li s0,0x80", "slli s0,s0,24", "a: addi a0,a0,1", "sd a0,512(s0)", "amoadd.w a1,a0,(s0)", "lr.d a2,(s0)", "csrr a3,0x344", "j a");
+            Check.make(x, m, Check.RAM, "li s0,0x80", "slli s0,s0,24", "a: addi a0,a0,1", "sd a0,512(s0)", "amoadd.w a1,a0,(s0)",
+                    "lr.d a2,(s0)", "csrr a3,0x344", "j a");
             x.record(m, true);
         }
         for (int i = 0; i < 24; i++) {

@@ -14,7 +14,8 @@ final class Stage {
         StringBuilder data = new StringBuilder();
         long status = mode == 3 ? 0 : (long) mode << 11 | (guest ? 1L << 39 : 0);
         int steps = 3;
-        steps += set(text, data, 0x305, HANDLER) + set(text, data, 0x105, S_HANDLER) + set(text, data, 0x205, VS_HANDLER) + set(text, data, 0x341, CODE);
+        steps += set(text, data, 0x305, HANDLER) + set(text, data, 0x105, S_HANDLER) + set(text, data, 0x205, VS_HANDLER) + set(text, data,
+                0x341, CODE);
         for (int i = 0; i < pairs.length; i += 2) {
             if (pairs[i] == 0x300) {
                 status |= pairs[i + 1];

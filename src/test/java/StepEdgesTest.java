@@ -3,8 +3,10 @@ public final class StepEdgesTest {
     private static final Check CHECK = new Check();
     private static final long RAM = Check.RAM;
     private static final int[] CONTROLS = {
-        0x300, 0x301, 0x302, 0x303, 0x304, 0x305, 0x306, 0x320, 0x340, 0x341, 0x342, 0x343, 0x344, 0x34a, 0x34b, 0x3a0, 0x3b0, 0x3b7, 0xb00, 0xb02, 0xc00, 0xc02,
-        0x100, 0x104, 0x105, 0x106, 0x140, 0x141, 0x142, 0x143, 0x144, 0x180, 0x600, 0x602, 0x603, 0x604, 0x605, 0x606, 0x643, 0x644, 0x645, 0x64a, 0x680,
+        0x300, 0x301, 0x302, 0x303, 0x304, 0x305, 0x306, 0x320, 0x340, 0x341, 0x342, 0x343, 0x344, 0x34a, 0x34b, 0x3a0, 0x3b0, 0x3b7,
+                0xb00, 0xb02, 0xc00, 0xc02,
+        0x100, 0x104, 0x105, 0x106, 0x140, 0x141, 0x142, 0x143, 0x144, 0x180, 0x600, 0x602, 0x603, 0x604, 0x605, 0x606, 0x643, 0x644,
+                0x645, 0x64a, 0x680,
         0x200, 0x204, 0x205, 0x240, 0x241, 0x242, 0x243, 0x244, 0x280};
 
     public static void main(String[] args) {
@@ -65,7 +67,8 @@ public final class StepEdgesTest {
         }
         text.append("la s0,0x10000000\nsb a0,1(s0)\nla s0,0x10001000\nsw a0,16(s0)\nla s0,0x10002000\nsw a0,24(s0)\n");
         text.append("la s0,0xc200000\nlw a1,4(s0)\nla s0,0x80000040\nlr.d a2,(s0)\n");
-        int[] controls = {0x302, 0x303, 0x304, 0x305, 0x306, 0x340, 0x341, 0x342, 0x343, 0x344, 0x34a, 0x34b, 0x3b0, 0x3b7, 0xb00, 0xb02, 0x105, 0x106, 0x140, 0x141,
+        int[] controls = {0x302, 0x303, 0x304, 0x305, 0x306, 0x340, 0x341, 0x342, 0x343, 0x344, 0x34a, 0x34b, 0x3b0, 0x3b7, 0xb00, 0xb02,
+                0x105, 0x106, 0x140, 0x141,
             0x142, 0x143, 0x602, 0x603, 0x605, 0x606, 0x643, 0x645, 0x64a, 0x205, 0x240, 0x241, 0x242, 0x243, 0x180, 0x280, 0x680};
         text.append("li a0,15\n");
         for (int number : controls) {
@@ -111,7 +114,8 @@ public final class StepEdgesTest {
     private static void resetsOfState() {
         CHECK.about("promise 8");
         RiscMonitor fresh = Check.house(2, 2, "nop");
-        RiscMonitor x = Check.house(2, 2, "la s0,0x10000000", "sb s0,0(s0)", "la s1,0x10001000", "la s2,0x80000000", "sd s2,8(s1)", "li a0,2", "sw a0,16(s1)", "wfi");
+        RiscMonitor x = Check.house(2, 2, "la s0,0x10000000", "sb s0,0(s0)", "la s1,0x10001000", "la s2,0x80000000", "sd s2,8(s1)",
+                "li a0,2", "sw a0,16(s1)", "wfi");
         x.run(0, 40);
         CHECK.due("reset", x.reset(0), 1);
         for (int number : CONTROLS) {
@@ -229,7 +233,8 @@ public final class StepEdgesTest {
 
     private static void written() {
         CHECK.about("term 1: not by a step whose instruction wrote that register");
-        String[] writes = {"csrw 0xb00,a0", "csrrwi zero,0xb00,0", "csrrs zero,0xb00,a0", "csrrsi zero,0xb00,1", "csrrc zero,0xb00,a0", "csrrci zero,0xb00,1"};
+        String[] writes = {"csrw 0xb00,a0", "csrrwi zero,0xb00,0", "csrrs zero,0xb00,a0", "csrrsi zero,0xb00,1", "csrrc zero,0xb00,a0",
+                "csrrci zero,0xb00,1"};
         String[] reads = {"csrrs a1,0xb00,zero", "csrrc a1,0xb00,zero", "csrrsi a1,0xb00,0", "csrrci a1,0xb00,0", "csrrs a1,0xc00,zero", "nop"};
         for (int i = 0; i < 2; i++) {
             int own = i == 0 ? 0xb00 : 0xb02;
@@ -239,7 +244,8 @@ public final class StepEdgesTest {
                 long before = x.control(0, 0, other);
                 long was = x.control(0, 0, own);
                 x.run(0, 1);
-                long want = line.contains("csrw") || line.contains("csrrw") ? 0 : line.contains("csrrsi") ? was | 1 : line.contains("csrrci") ? was & ~1 : was;
+                long want = line.contains("csrw") || line.contains("csrrw") ? 0 : line.contains("csrrsi") ? was | 1
+                        : line.contains("csrrci") ? was & ~1 : was;
                 CHECK.due(line + ": what was written stands", x.control(0, 0, own), want);
                 CHECK.due("the other grows", x.control(0, 0, other), before + 1);
             }
@@ -286,7 +292,8 @@ public final class StepEdgesTest {
             CHECK.due("x" + r + " of hart 0", x.register(0, 0, r), r == 0 ? 0 : r + 100);
             CHECK.due("x" + r + " of hart 1", x.register(0, 1, r), r == 0 ? 0 : r + 100);
         }
-        int[][] none = {{0, 0, 32}, {0, 0, -1}, {0, 2, 0}, {0, -1, 0}, {1, 0, 0}, {-1, 0, 0}, {4, 0, 0}, {0, 0, Integer.MAX_VALUE}, {0, Integer.MIN_VALUE, 0}};
+        int[][] none = {{0, 0, 32}, {0, 0, -1}, {0, 2, 0}, {0, -1, 0}, {1, 0, 0}, {-1, 0, 0}, {4, 0, 0}, {0, 0, Integer.MAX_VALUE}, {0,
+                Integer.MIN_VALUE, 0}};
         for (int[] row : none) {
             CHECK.dueRefusal("register(" + row[0] + ", " + row[1] + ", " + row[2] + ")", () -> x.register(row[0], row[1], row[2]));
         }

@@ -52,7 +52,8 @@ public final class StopEdgesTest {
 
     private static void storedBytes() {
         CHECK.about("term 12: behind a step in which its hart stored a byte there");
-        String[] stores = {"sb a0,8(s0)", "sh a0,8(s0)", "sw a0,8(s0)", "sd a0,8(s0)", "amoadd.w a0,a0,(s1)", "amomax.d a0,zero,(s1)", "sc.w a1,a0,(s1)", "sc.d a1,a0,(s1)"};
+        String[] stores = {"sb a0,8(s0)", "sh a0,8(s0)", "sw a0,8(s0)", "sd a0,8(s0)", "amoadd.w a0,a0,(s1)", "amomax.d a0,zero,(s1)",
+                "sc.w a1,a0,(s1)", "sc.d a1,a0,(s1)"};
         int[] sizes = {1, 2, 4, 8, 4, 8, 4, 8};
         for (int i = 0; i < stores.length; i++) {
             for (int at = 7; at <= 16; at++) {
@@ -79,7 +80,8 @@ public final class StopEdgesTest {
         x.mark(0, 1, RAM + 0x1000);
         x.mark(0, 1, RAM + 0x1001);
         CHECK.due("loads, an sc that fails, a store that traps", x.run(0, 6), 6);
-        x = Check.house(1, 2, "la s0,0x10001000", "la s1,0x80001000", "sd s1,8(s0)", "li a0,1", "sw a0,16(s0)", "la s2,0x10002000", "sd s1,8(s2)", "sd a0,16(s2)", "sw a0,24(s2)", "li a0,2", "sw a0,24(s2)", "j 0x80000038");
+        x = Check.house(1, 2, "la s0,0x10001000", "la s1,0x80001000", "sd s1,8(s0)", "li a0,1", "sw a0,16(s0)", "la s2,0x10002000",
+                "sd s1,8(s2)", "sd a0,16(s2)", "sw a0,24(s2)", "li a0,2", "sw a0,24(s2)", "j 0x80000038");
         x.mark(0, 1, RAM + 0x1000);
         CHECK.due("the disk, the copier", x.run(0, 30), 30);
         x.poke(0, RAM + 0x1000, 1);
@@ -198,7 +200,8 @@ public final class StopEdgesTest {
     /** In S with great pages: virtual 0x40000000 and 0x80000000 are both RAM. */
     private static void virtualPlaces() {
         CHECK.about("term 12: a virtual place, a physical place of RAM");
-        RiscMonitor x = Stage.in(1, false, "la s1,0x40001000\nla t0,0x40000820\njr t0\n.align 5\nsd sp,0(s1)\nnop\nnop", 0x180, 8L << 60 | (RAM >>> 12) + 4);
+        RiscMonitor x = Stage.in(1, false, "la s1,0x40001000\nla t0,0x40000820\njr t0\n.align 5\nsd sp,0(s1)\nnop\nnop", 0x180,
+                8L << 60 | (RAM >>> 12) + 4);
         long leaf = RAM >>> 12 << 10 | 0xcf;
         Check.make(x, 0, RAM + 4 * 4096, ".zero 8", ".dword " + leaf + "," + leaf);
         CHECK.due("a physical place of pc", x.mark(0, 0, RAM + 0x820), 0);

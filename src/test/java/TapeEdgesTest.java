@@ -91,11 +91,13 @@ public final class TapeEdgesTest {
     /** What the last sign of a full tape belongs to; behind it there is nothing. */
     private static void fullTapeEnds() {
         CHECK.about("term 7: the tape's end");
-        String[] good = {"nop", "mv a0,s1", "mv a0,zero", "mv a0,x3", "li a0,0", "li a0,7", "a:", "#", ".byte 1", ".ascii \"\"", "lw a0,0(s0)", ".zero 0"};
+        String[] good = {"nop", "mv a0,s1", "mv a0,zero", "mv a0,x3", "li a0,0", "li a0,7", "a:", "#", ".byte 1", ".ascii \"\"",
+                "lw a0,0(s0)", ".zero 0"};
         for (String line : good) {
             CHECK.due("'" + line + "' at the end", atEnd(line) >= 0 ? 1 : 0, 1);
         }
-        String[] missing = {".ascii \"", ".ascii \"ab", ".ascii", "li a0,", "li", "mv a0,", "mv a0", "lw a0,0(s0", "lw a0,0(", "lw a0,0", ".byte 1,", ".zero", "add x1,x2"};
+        String[] missing = {".ascii \"", ".ascii \"ab", ".ascii", "li a0,", "li", "mv a0,", "mv a0", "lw a0,0(s0", "lw a0,0(", "lw a0,0",
+                ".byte 1,", ".zero", "add x1,x2"};
         for (String line : missing) {
             CHECK.due("'" + line + "' at the end", atEnd(line), -1 - 4000);
         }
@@ -133,8 +135,10 @@ public final class TapeEdgesTest {
             String line = row.name() + " " + Table.operands(row, row.match(), RAM, false);
             all.add(line.replace(",", " , ").replace("(", " ( ").replace(")", " ) ").trim().split(" +"));
         }
-        String[] more = {"nop", "mv x1 , x2", "not a0 , t6", "neg s0 , s11", "li a0 , 5", "li a0 , 5000", "la a0 , 0x80000000", "j 0x80000000", "call 0x80000000", "jr ra", "ret",
-            "beqz a0 , 0x80000000", "bnez a0 , 0x80000000", "csrr a0 , 0x300", "csrw 0x300 , a0", ".byte 1", ".half 1 , 2", ".word 1 , 2 , 3", ".dword -1", ".zero 4", ".align 3"};
+        String[] more = {"nop", "mv x1 , x2", "not a0 , t6", "neg s0 , s11", "li a0 , 5", "li a0 , 5000", "la a0 , 0x80000000",
+                "j 0x80000000", "call 0x80000000", "jr ra", "ret",
+            "beqz a0 , 0x80000000", "bnez a0 , 0x80000000", "csrr a0 , 0x300", "csrw 0x300 , a0", ".byte 1", ".half 1 , 2",
+                    ".word 1 , 2 , 3", ".dword -1", ".zero 4", ".align 3"};
         for (String line : more) {
             all.add(line.split(" "));
         }
@@ -219,7 +223,8 @@ public final class TapeEdgesTest {
             CHECK.due("assemble of '" + ahead + n + behind + "'", made(2, RAM, ahead + n + behind) >= 0 ? 1 : 0, 1);
             CHECK.due("in hexadecimal", made(2, RAM, ahead + "0x" + Long.toHexString(n) + behind) >= 0 ? 1 : 0, 1);
         }
-        for (long n : new long[] {least - 1, most + 1, Long.MAX_VALUE, -Long.MAX_VALUE, least - (1L << 32), most + (1L << 32), least - (1L << 12), most + (1L << 12)}) {
+        for (long n : new long[] {least - 1, most + 1, Long.MAX_VALUE, -Long.MAX_VALUE, least - (1L << 32), most + (1L << 32),
+                least - (1L << 12), most + (1L << 12)}) {
             if (n < least || n > most) {
                 fault(ahead + n + behind, ahead.length());
                 fault(ahead + "0x" + Long.toHexString(n) + behind, ahead.length());
@@ -312,7 +317,8 @@ public final class TapeEdgesTest {
 
     private static void numbers() {
         CHECK.about("term 7: NUMBERS");
-        String[] right = {"0", "-0", "00", "9223372036854775807", "-9223372036854775807", "0x0", "0xffffffffffffffff", "0x0123456789abcdef", "0x00000000000000ff", "-000000000000000000000000009",
+        String[] right = {"0", "-0", "00", "9223372036854775807", "-9223372036854775807", "0x0", "0xffffffffffffffff",
+                "0x0123456789abcdef", "0x00000000000000ff", "-000000000000000000000000009",
             "0000009223372036854775807"};
         long[] values = {0, 0, 0, Long.MAX_VALUE, -Long.MAX_VALUE, 0, -1, 0x0123456789abcdefL, 255, -9, Long.MAX_VALUE};
         for (int i = 0; i < right.length; i++) {
@@ -321,7 +327,8 @@ public final class TapeEdgesTest {
             CHECK.due(".dword " + right[i], Check.make(x, 0, RAM, ".dword " + right[i]), 8);
             CHECK.due(right[i], Check.dword(x, 0, RAM), values[i]);
         }
-        String[] wrong = {"9223372036854775808", "-9223372036854775808", "10000000000000000000", "99999999999999999999999", "0x", "0x00000000000000000", "0x10000000000000000", "0xg", "0xF", "0X1", "-0x1", "-", "--1", "+1",
+        String[] wrong = {"9223372036854775808", "-9223372036854775808", "10000000000000000000", "99999999999999999999999", "0x",
+                "0x00000000000000000", "0x10000000000000000", "0xg", "0xF", "0X1", "-0x1", "-", "--1", "+1",
             "1-", "0b1", "1.", "1_0", "12a", "0x1x", "9223372036854775810", "-9223372036854775809"};
         for (String number : wrong) {
             fault(".dword " + number, 7);
@@ -330,14 +337,16 @@ public final class TapeEdgesTest {
 
     private static void registers() {
         CHECK.about("term 7: REGISTERS");
-        String[] names = {"zero", "ra", "sp", "gp", "tp", "t0", "t1", "t2", "s0", "s1", "a0", "a1", "a2", "a3", "a4", "a5", "a6", "a7", "s2", "s3", "s4", "s5", "s6", "s7", "s8", "s9", "s10", "s11", "t3", "t4", "t5", "t6"};
+        String[] names = {"zero", "ra", "sp", "gp", "tp", "t0", "t1", "t2", "s0", "s1", "a0", "a1", "a2", "a3", "a4", "a5", "a6", "a7",
+                "s2", "s3", "s4", "s5", "s6", "s7", "s8", "s9", "s10", "s11", "t3", "t4", "t5", "t6"};
         for (int r = 0; r < 32; r++) {
             RiscMonitor x = new RiscMonitor();
             x.computer(1, 1);
             Check.make(x, 0, RAM, "add " + names[r] + ",x" + r + "," + names[r]);
             CHECK.due(names[r], Check.listed(x, 0, RAM), "add x" + r + ", x" + r + ", x" + r);
         }
-        String[] wrong = {"x32", "x99", "x100", "x00", "x01", "x", "x1x", "x-1", "fp", "t7", "s12", "a8", "a10", "zer", "zeroo", "r1", "A0", "X1", "s01", "t", "s", "a", "ze", "1", "x4294967296", "pc", "s1 1"};
+        String[] wrong = {"x32", "x99", "x100", "x00", "x01", "x", "x1x", "x-1", "fp", "t7", "s12", "a8", "a10", "zer", "zeroo", "r1",
+                "A0", "X1", "s01", "t", "s", "a", "ze", "1", "x4294967296", "pc", "s1 1"};
         for (String name : wrong) {
             fault("mv a0," + name, name.equals("s1 1") ? 9 : 6);
             if (name.indexOf(' ') < 0) {
@@ -439,7 +448,8 @@ public final class TapeEdgesTest {
                 RiscMonitor x = new RiscMonitor();
                 x.computer(1, 2);
                 CHECK.due(".align " + n + " at +" + at, Check.make(x, 0, RAM + at, ".align " + n), want);
-                CHECK.due("with a byte ahead", Check.make(x, 0, RAM + at, ".byte 7", ".align " + n, "a: .byte a"), 2 + (int) (-(at + 1) & (1L << n) - 1));
+                CHECK.due("with a byte ahead", Check.make(x, 0, RAM + at, ".byte 7", ".align " + n, "a: .byte a"),
+                        2 + (int) (-(at + 1) & (1L << n) - 1));
             }
         }
         RiscMonitor x = new RiscMonitor();

@@ -30,7 +30,8 @@ public final class TrapTest {
 
     /** Lines that trap in their first step but those that jump, with causes and values; of ecall -1: by the mode. */
     private static void exceptions() {
-        String[] lines = {"ebreak", ".word 0xffffffff", "lw a0,1(zero)", "lw a0,8(zero)", "sw a0,1(zero)", "sw a0,8(zero)", "ecall", "jr zero", ".half 0x8002", "hlv.b a0,(zero)"};
+        String[] lines = {"ebreak", ".word 0xffffffff", "lw a0,1(zero)", "lw a0,8(zero)", "sw a0,1(zero)", "sw a0,8(zero)", "ecall",
+                "jr zero", ".half 0x8002", "hlv.b a0,(zero)"};
         int[] causes = {3, 2, 4, 5, 6, 7, -1, 1, 2, 22};
         long[] values = {Stage.CODE, 0xffffffffL, 1, 8, 1, 8, 0, 0, 0x8002, 0x60004573};
         for (int i = 0; i < lines.length; i++) {
@@ -52,7 +53,8 @@ public final class TrapTest {
         long bit = 1L << cause;
         boolean fetch = cause == 1;
         RiscMonitor x = Stage.in(mode & 3, mode >= 4, line, 0x302, (rights & 1) != 0 ? bit : ~bit, 0x602, (rights & 2) != 0 ? bit : ~bit,
-                MSTATUS, full ? 0x4000000122L | (mode == 3 ? 0x88 : 0x80) : 0, HSTATUS, full ? 0x1c0 : 0, VSSTATUS, full ? 0x122 : 0, 0x34b, 7, 0x34a, 7, 0x643, 7, 0x64a, 7);
+                MSTATUS, full ? 0x4000000122L | (mode == 3 ? 0x88 : 0x80) : 0, HSTATUS, full ? 0x1c0 : 0, VSSTATUS, full ? 0x122 : 0,
+                        0x34b, 7, 0x34a, 7, 0x643, 7, 0x64a, 7);
         if (fetch) {
             x.run(0, 1);
         }
@@ -185,7 +187,8 @@ public final class TrapTest {
     /** In M: 11 by the controller, 3 by the gate, 7 by MTIMECMP, 9, 1, 5 by mip; those of mideleg never come there. */
     private static void machineInterrupts() {
         CHECK.about("term 4: interrupts in M");
-        String devices = "li s0,0xc000010\nli a0,1\nsw a0,0(s0)\nli s0,0xc002000\nli a1,16\nsw a1,0(s0)\nli s0,0x2000000\nsw a0,0(s0)\nli s0,0x2004000\nsd zero,0(s0)\n";
+        String devices = "li s0,0xc000010\nli a0,1\nsw a0,0(s0)\nli s0,0xc002000\nli a1,16\nsw a1,0(s0)\n"
+                + "li s0,0x2000000\nsw a0,0(s0)\nli s0,0x2004000\nsd zero,0(s0)\n";
         long enabled = 0xaaa;
         for (int n : new int[] {11, 3, 7, 9, 1, 5}) {
             RiscMonitor x = Stage.in(3, false, devices + "csrrsi zero,0x300,8\nnop", 0x344, -1, 0x645, -1, 0x304, enabled);
@@ -264,7 +267,8 @@ public final class TrapTest {
             boolean spv = (set & 4) != 0;
             long status = with(with(0, 8, spp), 5, spie);
             for (int mode : new int[] {1, 3, 5}) {
-                RiscMonitor x = Stage.in(mode & 3, mode == 5, "sret", mode == 5 ? VSSTATUS : MSTATUS, status | (mode == 3 ? 1 << 17 : 0), HSTATUS, with(0x340, 7, spv),
+                RiscMonitor x = Stage.in(mode & 3, mode == 5, "sret", mode == 5 ? VSSTATUS : MSTATUS, status | (mode == 3 ? 1 << 17 : 0),
+                        HSTATUS, with(0x340, 7, spv),
                         0x141, Stage.CODE + 128, 0x241, Stage.CODE + 256);
                 CHECK.about("term 4: sret in mode " + mode + ", set " + set);
                 long host = x.control(0, 0, HSTATUS);
@@ -297,7 +301,8 @@ public final class TrapTest {
             x.run(0, 1);
             CHECK.due("behind " + line, x.hart(0, 0, 3), -1);
         }
-        String[] leave = {"nop", "fence", "fence.i", "wfi", "sfence.vma x0,x0", "csrw 0x340,zero", "sd a0,0(s0)", "lw a0,0(s0)", "amoadd.d a0,a0,(s0)"};
+        String[] leave = {"nop", "fence", "fence.i", "wfi", "sfence.vma x0,x0", "csrw 0x340,zero", "sd a0,0(s0)", "lw a0,0(s0)",
+                "amoadd.d a0,a0,(s0)"};
         for (String line : leave) {
             RiscMonitor x = Stage.ran(4, 3, false, hold + line);
             CHECK.due(line + " leaves it", x.hart(0, 0, 3), Check.RAM + 0x1040);
