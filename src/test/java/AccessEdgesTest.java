@@ -452,8 +452,8 @@ public final class AccessEdgesTest {
 
     private static void secondOfS() {
         CHECK.about("term 4: htval");
-        for (long at : new long[] {0x1234560, 0x7ffffffff8L, 8}) {
-            RiscMonitor x = Stage.in(1, false, "la s1,q\nld s1,0(s1)\nhlv.d a0,(s1)\n.align 3\nq: .dword " + at, 0x680,
+        for (long at : new long[] {0x1234560, 0x7ffffffff8L, 8, -8, Long.MIN_VALUE + 8}) {
+            RiscMonitor x = Stage.in(1, false, "la s1,q\nld s1,0(s1)\nhlv.d a0,(s1)\n.align 3\nq: .dword 0x" + Long.toHexString(at), 0x680,
                     SV39 | G_TABLE >>> 12, 0x302, -1);
             x.run(0, 4);
             CHECK.due("to S", x.hart(0, 0, 1), Stage.S_HANDLER);
@@ -462,7 +462,7 @@ public final class AccessEdgesTest {
             CHECK.due("htval", x.control(0, 0, 0x643), at >>> 2);
             CHECK.due("hstatus' GVA, no SPV", x.control(0, 0, 0x600) & 0xc0, 0x40);
             CHECK.due("mtval2", x.control(0, 0, 0x34b), 0);
-            x = Stage.in(1, false, "la s1,q\nld s1,0(s1)\nhsv.d a0,(s1)\n.align 3\nq: .dword " + at, 0x680, SV39 | G_TABLE >>> 12);
+            x = Stage.in(1, false, "la s1,q\nld s1,0(s1)\nhsv.d a0,(s1)\n.align 3\nq: .dword 0x" + Long.toHexString(at), 0x680, SV39 | G_TABLE >>> 12);
             x.run(0, 4);
             CHECK.due("mcause", Stage.cause(x), 23);
             CHECK.due("mtval2", x.control(0, 0, 0x34b), at >>> 2);
